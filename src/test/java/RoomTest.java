@@ -1,0 +1,75 @@
+import java.lang.management.ManagementFactory;
+
+/** What calls make is counted: a run has 7.3 million fields and elements, so 4 to 8 bytes each. */
+public final class RoomTest {
+    private static final com.sun.management.ThreadMXBean COUNTER =
+        (com.sun.management.ThreadMXBean) ManagementFactory.getThreadMXBean();
+
+    private RoomTest() {
+    }
+
+    private static long made() {
+        return COUNTER.getThreadAllocatedBytes(Thread.currentThread().getId());
+    }
+
+    private static void upTo(String what, long most, Runnable calls) {
+        long before = made();
+        calls.run();
+        long its = made() - before;
+        Check.holds(what + " made " + its + " bytes, more than " + most, its <= most);
+        System.out.println(what + ": " + its + " bytes");
+    }
+
+    private static void read(RuleSheets x, String text) {
+        x.end(0);
+        Check.write(x, text);
+        Check.due("read() of a sheet", 0, x::read);
+    }
+
+    private static void playAll(RuleSheets x) {
+        x.start();
+        for (int n = 0; n < 100; n++) {
+            x.moves(0);
+            x.terminal();
+            x.goal(0);
+            x.sign(1, 0, 0);
+            x.play(n % 2);
+        }
+    }
+
+    public static void main(String[] args) {
+        RuleSheets[] x = new RuleSheets[1];
+        String walk = "(role a)(init (c (n 0)))(legal a (go up))(legal a (go down))(s 0 1)(s 1 2)(s 2 3)(s 3 0)"
+            + "(<= (next (c (n ?y))) (true (c (n ?x))) (s ?x ?y) (does a (go up)))"
+            + "(<= (next (c (n ?y))) (true (c (n ?x))) (s ?y ?x) (does a (go down)))";
+        upTo("a new object", 260000, () -> x[0] = new RuleSheets());
+        upTo("put", 2000, () -> Check.write(x[0], walk));
+        read(x[0], walk);
+        upTo("read again", 2000, () -> x[0].read());
+        playAll(x[0]);
+        upTo("a long game", 2000, () -> playAll(x[0]));
+        upTo("the first explore", 250000, () -> explore(x[0]));
+        x[0].read();
+        upTo("one more explore", 2000, () -> explore(x[0]));
+        upTo("a great sheet", 4000000, () -> great(x[0]));
+        upTo("a great sheet again", 20000, () -> great(x[0]));
+        Check.finish();
+    }
+
+    private static void explore(RuleSheets x) {
+        Check.holds("explore() of a small game", x.explore() == 4);
+    }
+
+    /** Some 240 states with 48 terms each, most of which are unlike. */
+    private static void great(RuleSheets x) {
+        StringBuilder out = new StringBuilder("(role a)(legal a go)(init (c 0 0))");
+        for (int k = 0; k < 23; k++) {
+            out.append("(s ").append(k).append(' ').append(k + 1).append(')').append(k < 9 ? "(t " + k + " " + (k + 1) + ")" : "");
+        }
+        out.append("(<= (next (c ?x ?z)) (true (c ?x ?y)) (s ?y ?z))(<= (next (c ?z 0)) (true (c ?x 23)) (t ?x ?z))");
+        out.append("(<= (next (g (h ?x ?y) (k ?z ?x ?y))) (true (c ?x ?y)) (s ?z ?w))");
+        out.append("(<= (next (g (h ?x ?y) (l ?z ?x ?y))) (true (c ?x ?y)) (s ?z ?w))");
+        read(x, out.toString());
+        Check.due("explore() of a great sheet", 242, x::explore);
+    }
+}
