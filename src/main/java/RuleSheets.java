@@ -61,7 +61,7 @@ public final class RuleSheets {
     private static final int TOO_GREAT = 2;
 
     private final char[] text = new char[MAX_SIGNS];
-    private int signs;
+    private int length;
     private int faultAt = NONE;
     private final Sheet oneSheet = new Sheet();
     private final Sheet otherSheet = new Sheet();
@@ -88,16 +88,16 @@ public final class RuleSheets {
             }
             more += sign == 0 ? 0 : 1;
         }
-        if (this.signs + more > MAX_SIGNS) {
+        if (length + more > MAX_SIGNS) {
             throw new UnsupportedOperationException("the text would be too long");
         }
         for (int k = 0; k < 32; k += 8) {
             int sign = (signs >>> k) & 255;
             if (sign != 0) {
-                text[this.signs++] = (char) sign;
+                text[length++] = (char) sign;
             }
         }
-        return this.signs;
+        return length;
     }
 
     private static boolean isSign(int sign) {
@@ -105,15 +105,15 @@ public final class RuleSheets {
     }
 
     public void end(int n) throws IllegalArgumentException {
-        if (n < 0 || n > signs) {
+        if (n < 0 || n > length) {
             throw new IllegalArgumentException("the text has not so many signs");
         }
-        signs = n;
+        length = n;
     }
 
     public int read() {
         Sheet fresh = current == oneSheet ? otherSheet : oneSheet;
-        faultAt = parser.parse(text, signs, fresh);
+        faultAt = parser.parse(text, length, fresh);
         if (faultAt != NONE) {
             return NOT_A_SHEET;
         }
@@ -992,7 +992,7 @@ public final class RuleSheets {
         private int[] arg = new int[MAX_TERMS * 1024];
         private int[] size = new int[1024];
         /** A number that depends on what the term is, but not on which number it has. */
-        private int[] print = new int[1024];
+        private int[] fingerprint = new int[1024];
         private int[] link = new int[1024];
         private int[] moved = new int[1024];
         private int[] bucket = new int[1024];
@@ -1013,7 +1013,7 @@ public final class RuleSheets {
             for (int n = 0; n < names.count; n++) {
                 shape[n] = n << 3;
                 size[n] = names.length(n);
-                print[n] = (n + 1) * 0x9E3779B1;
+                fingerprint[n] = (n + 1) * 0x9E3779B1;
             }
             top = names.count;
             base = top;
@@ -1045,13 +1045,13 @@ public final class RuleSheets {
             shape = Arrays.copyOf(shape, all);
             arg = Arrays.copyOf(arg, MAX_TERMS * all);
             size = Arrays.copyOf(size, all);
-            print = Arrays.copyOf(print, all);
+            fingerprint = Arrays.copyOf(fingerprint, all);
             link = Arrays.copyOf(link, all);
             moved = new int[all];
             bucket = new int[all];
             Arrays.fill(bucket, NONE);
             for (int t = names.count; t < top; t++) {
-                int slot = print[t] & all - 1;
+                int slot = fingerprint[t] & all - 1;
                 link[t] = bucket[slot];
                 bucket[slot] = t;
             }
@@ -1063,7 +1063,7 @@ public final class RuleSheets {
             int its = itsShape;
             int length = size[itsShape >> 3] + 2 + n;
             for (int k = 0; k < n; k++) {
-                its = (its ^ print[row[k]]) * 0x2C1B3C6D;
+                its = (its ^ fingerprint[row[k]]) * 0x2C1B3C6D;
                 its ^= its >>> 15;
                 length += size[row[k]];
             }
@@ -1083,7 +1083,7 @@ public final class RuleSheets {
             shape[top] = itsShape;
             System.arraycopy(row, 0, arg, MAX_TERMS * top, n);
             size[top] = length;
-            print[top] = its;
+            fingerprint[top] = its;
             link[top] = bucket[slot];
             bucket[slot] = top;
             return top++;
@@ -1092,7 +1092,7 @@ public final class RuleSheets {
         /** Drops all terms from mark on. */
         void release(int mark) {
             for (int t = top - 1; t >= mark; t--) {
-                bucket[print[t] & bucket.length - 1] = link[t];
+                bucket[fingerprint[t] & bucket.length - 1] = link[t];
             }
             top = Math.min(top, mark);
         }
@@ -1651,7 +1651,7 @@ public final class RuleSheets {
         private final Model model;
         private final int[] term = new int[MAX_STATES * MAX_STATE_TERMS];
         private final int[] rowStart = new int[MAX_STATES + 1];
-        private final int[] print = new int[MAX_STATES];
+        private final int[] fingerprint = new int[MAX_STATES];
         private final boolean[] over = new boolean[MAX_STATES];
         private final int[] joint = new int[MAX_STATES];
         private final int[] follower = new int[MAX_STATES * MAX_JOINT];
@@ -1692,9 +1692,9 @@ public final class RuleSheets {
 
         /** The number of a state that has just been told; NONE if there are too many. */
         private int number(Position position, int mark) {
-            int its = printOf(position);
+            int its = fingerprintOf(position);
             for (int n = 0; n < count; n++) {
-                if (print[n] == its && isRow(n, position)) {
+                if (fingerprint[n] == its && isRow(n, position)) {
                     terms.release(mark);
                     return n;
                 }
@@ -1705,14 +1705,14 @@ public final class RuleSheets {
             terms.keep(position.term, 0, position.count, mark);
             System.arraycopy(position.term, 0, term, rowStart[count], position.count);
             rowStart[count + 1] = rowStart[count] + position.count;
-            print[count] = its;
+            fingerprint[count] = its;
             return count++;
         }
 
-        private int printOf(Position position) {
+        private int fingerprintOf(Position position) {
             int its = position.count;
             for (int k = 0; k < position.count; k++) {
-                its = its * 31 + terms.print[position.term[k]];
+                its = its * 31 + terms.fingerprint[position.term[k]];
             }
             return its;
         }
