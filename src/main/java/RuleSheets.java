@@ -470,7 +470,7 @@ public final class RuleSheets {
         private int parts;
         private final int[] firstPart = new int[MAX_RULES + 1];
         private int rules;
-        /** The rules so that what one needs is ahead of it; those that need one another are a group. */
+        /** The rules in groups, so that what one needs of other groups is ahead of it. */
         private final int[] order = new int[MAX_RULES];
         private final boolean[] endsGroup = new boolean[MAX_RULES];
         private final boolean[] recursive = new boolean[MAX_RULES];
@@ -742,7 +742,7 @@ public final class RuleSheets {
         private final int[] numberOfTerms = new int[MAX_NAMES];
         private final int[] bitOf = new int[MAX_NAMES];
         private final long[] needs = new long[DOES_BIT + 1];
-        private final int[] key = new int[MAX_RULES];
+        private final int[] needed = new int[MAX_RULES];
         private int heads;
         private int where;
         private Sheet sheet;
@@ -956,30 +956,23 @@ public final class RuleSheets {
 
         /**
          * A relation needs all that those need that it needs, so it needs more than any of them
-         * unless they need it, too: to sort by that number puts all that is needed ahead.
+         * unless they need it, too: to sort by that number puts all that is needed ahead. Those of
+         * one number are a group; they need one another, or have nothing to do with each other.
          */
         private void arrange() {
             for (int r = 0; r < sheet.rules; r++) {
-                key[r] = keyOf(headBit(r));
+                int head = headBit(r);
+                needed[r] = Long.bitCount(needs[head] | 1L << head);
                 int k = r;
-                while (k > 0 && key[sheet.order[k - 1]] > key[r]) {
+                while (k > 0 && needed[sheet.order[k - 1]] > needed[r]) {
                     sheet.order[k] = sheet.order[k - 1];
                     k--;
                 }
                 sheet.order[k] = r;
             }
             for (int k = 0; k < sheet.rules; k++) {
-                sheet.endsGroup[k] = k + 1 == sheet.rules || key[sheet.order[k]] != key[sheet.order[k + 1]];
+                sheet.endsGroup[k] = k + 1 == sheet.rules || needed[sheet.order[k]] < needed[sheet.order[k + 1]];
             }
-        }
-
-        private int keyOf(int head) {
-            long all = needs[head] | 1L << head;
-            int least = 0;
-            while (least < head && (needs[least] | 1L << least) != all) {
-                least++;
-            }
-            return Long.bitCount(all) * 64 + least;
         }
     }
 
@@ -988,14 +981,17 @@ public final class RuleSheets {
      * each behind its own terms. They are dropped from the last one back.
      */
     private static final class Terms {
-        private int[] shape = new int[1024];
-        private int[] arg = new int[MAX_TERMS * 1024];
-        private int[] size = new int[1024];
+        /** A power of two, and more than all names. */
+        private static final int FIRST_ROOM = 1024;
+
+        private int[] shape = new int[FIRST_ROOM];
+        private int[] arg = new int[MAX_TERMS * FIRST_ROOM];
+        private int[] size = new int[FIRST_ROOM];
         /** A number that depends on what the term is, but not on which number it has. */
-        private int[] fingerprint = new int[1024];
-        private int[] link = new int[1024];
-        private int[] moved = new int[1024];
-        private int[] bucket = new int[1024];
+        private int[] fingerprint = new int[FIRST_ROOM];
+        private int[] link = new int[FIRST_ROOM];
+        private int[] moved = new int[FIRST_ROOM];
+        private int[] bucket = new int[FIRST_ROOM];
         private int top;
         /** The terms that the sheet itself needs end here. */
         private int base;
@@ -1008,7 +1004,6 @@ public final class RuleSheets {
             names = itsNames;
             top = 0;
             roles = 0;
-            reserve(names.count);
             Arrays.fill(bucket, NONE);
             for (int n = 0; n < names.count; n++) {
                 shape[n] = n << 3;
@@ -1336,7 +1331,6 @@ public final class RuleSheets {
 
         void load(Sheet itsSheet) {
             sheet = itsSheet;
-            atoms.clear();
             terms.load(sheet.names);
             for (int r = 0; r < sheet.rules; r++) {
                 int head = sheet.firstPart[r];
@@ -1376,7 +1370,7 @@ public final class RuleSheets {
         /**
          * Works out all that holds with what has been assumed; false if it is too great. Of a group
          * the rules that need nothing of it go first; then each atom of its relations, the new ones
-         * too, is taken for each condition of the others that it fits.
+         * too, is taken in turn for the conditions that it fits.
          */
         boolean workOut() {
             great = false;

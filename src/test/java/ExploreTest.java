@@ -171,7 +171,8 @@ public final class ExploreTest {
 
     /** What a sheet before has left doesn't show. */
     private static void another() {
-        RuleSheets x = explored(graph("01 12 23 31 34", "3", "4:100"), 5);
+        RuleSheets x = explored(graph("00 01", "0", "1:100"), 2);
+        Check.due("a circle", 6, () -> x.defect(0));
         x.end(0);
         Check.write(x, "(role a)(role b)(init s)terminal(goal a 30)(goal b 70)");
         x.read();

@@ -113,6 +113,10 @@ public final class LimitsTest {
 
     private static void rooms() {
         starts("with a room of 300000", rooms("(<= (init ?a) (xx ?a ?b) (yy ?a ?b) (zz ?b ?c))"), 10);
+        tooGreat("with a room of 300001", facts("d", 22) + "(<= (xx ?a ?b) (d ?a) (d ?b))" + facts("xx x", 7)
+            + facts("h", 2) + "(<= (yy ?a ?b) (d ?a) (h ?b))" + facts("yy x", 3) + facts("m", 6) + "(<= (zz ?a ?b) (h ?a) (m ?b))(zz x x)"
+            + "(<= w (xx ?a n) (yy ?b n) (zz ?c n))");
+        starts("with a room of 300000 of a recursive rule", rooms("(<= (c ?x ?y) (xx ?x ?y))(<= (c ?x ?y) (c ?x ?y) (yy ?a ?b) (zz ?c ?d))"), 0);
         tooGreat("with a room of 305000", rooms("(zz a b)(<= (init ?a) (xx ?a ?b) (yy ?a ?b) (zz ?b ?c))"));
         tooGreat("with a room of 10 to the 16th", rooms("(<= init_ (xx ?a ?b) (xx ?c ?d) (xx ?e ?f) (xx ?g ?h) (xx ?a ?b) (xx ?a ?b) (xx ?a ?b) (xx ?a ?b))"));
         starts("with a room of 0 at last", rooms("(init s)(<= w (xx ?a ?b) (xx ?c ?d) (xx ?e ?f) (xx ?g ?h) (none ?a))"), 1);
@@ -155,7 +159,7 @@ public final class LimitsTest {
         Check.due("the value from far", 25, () -> x.value(0));
         Check.due("the last next", 299, () -> x.next(298, 0));
         Check.due("the last is terminal", 1, () -> x.state(299, 1));
-        RuleSheets y = Check.reading(counter(30, "(<= (next end) (true (c 9 29)))"));
+        RuleSheets y = Check.reading(counter(30, "(<= (next end) (true (c 9 29)))(<= terminal (true end))"));
         Check.refused("explore() of 301 states", UnsupportedOperationException.class, y::explore);
         Check.due("its start is well", 1, y::start);
         Check.refused("they are not known", IllegalStateException.class, () -> y.state(0, 0));
@@ -203,6 +207,11 @@ public final class LimitsTest {
 
     private static void works() {
         Check.due("explore() with work of 30000000", 20, Check.reading(work(""))::explore);
+        String oneMore = work("").replaceFirst("\\(<= z\\(e n\\)\\(e n\\)\\)", "(<= z(does a n)(s ?x ?y))");
+        Check.refused("explore() with work of 30000001", UnsupportedOperationException.class, Check.reading(oneMore)::explore);
+        RuleSheets x = Check.started(work(""));
+        Check.due("its moves", 1, () -> x.moves(0));
+        Check.due("explore() of it with a state", 20, x::explore);
         Check.refused("explore() with work of 30000019", UnsupportedOperationException.class, Check.reading(work("(<= z (does n ?x))"))::explore);
         Check.refused("explore() with work of 30000039", UnsupportedOperationException.class, Check.reading(work("(<= z (true n))"))::explore);
         Check.refused("explore() with work of 30000040", UnsupportedOperationException.class, Check.reading(work("z"))::explore);

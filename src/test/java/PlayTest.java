@@ -101,6 +101,7 @@ public final class PlayTest {
         RuleSheets x = Check.started("(init b)(init ab)(init a)(init a_)(init a0)(init aa)(init 9)(init 10)(init _)"
             + "(init (b c))(init (a c))(init (a c d))(init (a c d e))(init (a b z))(init (ab c))"
             + "(init (a (c d)))(init (a (c d e) b))(init (a ca))(init (b c d))(init (b (b c)))(init z)(init z)");
+        terms("fewer terms behind more", Check.started("(init (q r))(init (q r z))(init (q r a))(init (q r a z))"), 4, "(q r a z) (q r a) (q r z) (q r)");
         terms("states in order", x, 21, "(a (c d e) b) (a (c d)) (a b z) (a c d e) (a c d) (a c) (a ca) (ab c)"
             + " (b (b c)) (b c d) (b c) 10 9 _ a a0 a_ aa ab b z");
     }
@@ -108,7 +109,7 @@ public final class PlayTest {
     private static void goals() {
         RuleSheets x = Check.started("(role a)(role b)(role c)(role d)(role e)"
             + "(goal a 0)(goal a 00)(goal a 000)(goal a 101)(goal a 1000)(goal a 0000)(goal a x)(goal a (f 1))(goal a 1a)"
-            + "(goal b 100)(goal c 99)(goal c 099)(goal c 9)(goal e 3)(goal z 3)(goal d 200)");
+            + "(goal b 100)(goal b x)(goal b 1x)(goal b 1000)(goal b 0000)(goal c 99)(goal c 099)(goal c 9)(goal e 3)(goal z 3)(goal d 200)");
         Check.due("a goal told in several ways", 0, () -> x.goal(0));
         Check.due("a goal of 100", 100, () -> x.goal(1));
         Check.due("several goals", -2, () -> x.goal(2));
@@ -195,6 +196,10 @@ public final class PlayTest {
         holds("(<= (legal a b) (true c))(<= (legal a d) (not (true c)))(init c)", 1, "b");
         holds("(<= (legal a b) (not (true c)))(<= (legal a d) (not (not_ c)))", 2, "b d");
         holds("(<= (legal ?x ?y) (role ?x) (goal ?x ?y))(goal a 5)(goal b 6)", 1, "5");
+        holds("(k 1)(k 2)(k 3)(k 4)(e 1 2)(e 2 3)(<= (w ?y) (e 1 ?y))(<= (w ?z) (w ?y) (e ?y ?z))(<= (legal a ?x) (k ?x) (not (w ?x)))", 2, "1 4");
+        holds("(q role)(p b)(<= (legal a ?x) (p ?x) (not (q (f ?x))))", 1, "b");
+        holds("(p role)(p init)(<= (legal a m) (p role))(<= (legal a n) (p next))(<= (legal a role) (p ?x) (distinct ?x role))"
+            + "(<= (legal a (f role)) (p init) (distinct role next))(<= (legal a o) (distinct role role))", 3, "(f role) m role");
     }
 
     /** Conditions of both kinds of a group see atoms that come late. */
@@ -204,6 +209,41 @@ public final class PlayTest {
         holds("(d 1)(d 2)(d 3)(<= (p ?x) (q ?x))(<= (q 1))(<= (q ?y) (p ?x) (s ?x ?y))(s 1 2)(s 2 3)"
             + "(<= (both ?x ?y) (p ?x) (q ?y) (d ?x) (d ?y))(<= (legal a (f ?x ?y)) (both ?x ?y))", 9,
             "(f 1 1) (f 1 2) (f 1 3) (f 2 1) (f 2 2) (f 2 3) (f 3 1) (f 3 2) (f 3 3)");
+    }
+
+    /** More terms and names than there is room for at first, many of them of one length. */
+    private static void manyTerms() {
+        StringBuilder out = new StringBuilder("(role a)");
+        StringBuilder want = new StringBuilder();
+        for (int k = 0; k < 28; k++) {
+            out.append("(d ").append(k + 10).append(')');
+        }
+        for (int k = 0; k < 28; k++) {
+            for (int n = 0; n < 28; n++) {
+                want.append(k + n == 0 ? "" : " ").append("(f (g ").append(k + 10).append(") (h (g ").append(n + 10).append(") ").append(k + 10).append("))");
+            }
+        }
+        RuleSheets x = Check.started(out + "(<= (legal a (f (g ?x) (h (g ?y) ?x))) (d ?x) (d ?y))(<= (next ?m) (does a ?m))");
+        moves("many terms", x, 0, 784, want.toString());
+        Check.due("a move among them", 1, () -> x.play(777));
+        Check.same("that move", "(f (g 37) (h (g 31) 37))", Check.text(x, 0, 0));
+        moves("many terms again", x, 0, 784, want.toString());
+        StringBuilder names = new StringBuilder();
+        StringBuilder due = new StringBuilder();
+        for (int k = 0; k < 60; k++) {
+            String name = "" + (char) ('a' + k % 20) + (char) ('a' + k / 20) + (char) ('a' + k % 7);
+            names.append("(init ").append(name).append(')');
+        }
+        java.util.TreeSet<String> sorted = new java.util.TreeSet<>();
+        for (String part : names.toString().split("[()]")) {
+            if (part.startsWith("init ")) {
+                sorted.add(part.substring(5));
+            }
+        }
+        for (String name : sorted) {
+            due.append(due.length() == 0 ? "" : " ").append(name);
+        }
+        terms("many names", Check.started(names.toString()), 60, due.toString());
     }
 
     private static void longTerms() {
@@ -244,6 +284,7 @@ public final class PlayTest {
         manyJoint();
         whatHolds();
         lateAtoms();
+        manyTerms();
         longTerms();
         longGame();
         Check.finish();

@@ -125,6 +125,9 @@ public final class ReadTest {
         noSheet(Check.repeat("(<= a) ", 60) + "|(<= a)");
         noSheet(Check.repeat("a ", 60) + "|?");
         well(Check.repeat("a ", 60) + " ; no more");
+        Check.fault(Check.repeat("(", 2000), 1, 1);
+        Check.fault(Check.repeat(")", 2000), 1, 0);
+        Check.fault("a ;" + Check.repeat("(", 1997), 0, -1);
         well("(p" + Check.repeat(" (f a b c d)", 4) + ") " + Check.repeat("b(q a)\n", 29));
     }
 
@@ -194,6 +197,8 @@ public final class ReadTest {
         Check.fault("(<= p (q ?x) (distinct ?x ?y))", 5, 0);
         Check.fault("(<= p (q ?x) (distinct (f ?y) ?x))", 5, 0);
         Check.fault("(<= (p (f (g ?y))) (q ?x))", 5, 0);
+        Check.fault("(<= p (q a) (distinct ?x b))", 5, 0);
+        Check.fault("(<= p (distinct ?x b) (q a)) (<= r (q ?x))", 5, 0);
         well("(<= (p ?x) (not (r ?x)) (distinct ?x a) (q (f ?x)))");
     }
 
@@ -221,6 +226,8 @@ public final class ReadTest {
         well("(<= (p ?x) (q ?x ?y) (r ?y)) (<= (q ?x ?x) (p ?x))");
         well("(<= p q) (<= q p)");
         well("(<= (p ?x) (q (f ?x)))");
+        well("(<= (p ?x ?y) (p b ?x) (q ?x ?y))");
+        Check.fault("(<= (p ?x ?y) (p (f b) (f ?x)) (q ?x ?y))", 7, 0);
     }
 
     private static void firstGoes() {
@@ -271,6 +278,27 @@ public final class ReadTest {
         Check.due("its fault", 3, x::fault);
     }
 
+    /** Nothing of a text behind its end is seen, and nothing of a sheet that was read before. */
+    private static void left() {
+        RuleSheets x = Check.with("(<= a)");
+        x.end(2);
+        Check.due("read() of '(<'", 1, x::read);
+        Check.due("its place", 1, x::fault);
+        x.end(1);
+        Check.due("read() of '('", 1, x::read);
+        Check.due("the text's end", 1, x::fault);
+        x.end(0);
+        Check.write(x, "(<= terminal p)(<= p (does a b))");
+        Check.due("terminal by does", 4, x::read);
+        x.end(0);
+        Check.write(x, "terminal p (p_ a b c)");
+        Check.due("terminal alone", 0, x::read);
+        x.end(0);
+        Check.write(x, "terminal p (p_ a)");
+        Check.due("another number of terms", 0, x::read);
+        Check.due("no fault is left", -1, x::fault);
+    }
+
     private static void sheet() {
         RuleSheets x = Check.reading("(role a) (role b) (role a) (<= (role c)) p (role (d e)) (role f)");
         Check.due("sheet(0)", 7, () -> x.sheet(0));
@@ -300,6 +328,7 @@ public final class ReadTest {
         recursion();
         firstGoes();
         stays();
+        left();
         sheet();
         Check.finish();
     }
