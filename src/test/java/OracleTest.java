@@ -138,7 +138,7 @@ public final class OracleTest {
     }
 
     public static void main(String[] args) {
-        int rounds = args.length > 0 ? Integer.parseInt(args[0]) : 400;
+        int rounds = args.length > 0 ? Integer.parseInt(args[0]) : 100;
         long seed = args.length > 1 ? Long.parseLong(args[1]) : 1;
         for (int n = 0; n < rounds; n++) {
             go(new SheetMaker(seed + n), new Random(seed * 31 + n));

@@ -51,9 +51,31 @@ public final class RoomTest {
         upTo("the first explore", 250000, () -> explore(x[0]));
         x[0].read();
         upTo("one more explore", 2000, () -> explore(x[0]));
+        read(x[0], junk());
+        upTo("a long game with much that isn't kept", 2000, () -> playOn(x[0]));
+        upTo("explore with much that isn't kept", 2000, () -> Check.holds("explore() of it", x[0].explore() == 200));
         upTo("a great sheet", 4000000, () -> great(x[0]));
         upTo("a great sheet again", 20000, () -> great(x[0]));
         Check.finish();
+    }
+
+    private static void playOn(RuleSheets x) {
+        x.start();
+        for (int n = 0; n < 199; n++) {
+            Check.holds("ten moves", x.moves(0) == 10);
+            x.play(n % 10);
+        }
+    }
+
+    /** 200 states, in each of which some 60 terms come that come in no other one. */
+    private static String junk() {
+        StringBuilder out = new StringBuilder("(role a)(init (c 0 0))");
+        for (int k = 0; k < 19; k++) {
+            out.append("(s ").append(k).append(' ').append(k + 1).append(')').append(k < 9 ? "(t " + k + " " + (k + 1) + ")" : "");
+        }
+        return out + "(d 0)(<= (d ?y) (t ?x ?y))(<= (legal a (go ?x ?y ?k)) (true (c ?x ?y)) (d ?k))"
+            + "(<= (next (c ?x ?z)) (true (c ?x ?y)) (s ?y ?z))(<= (next (c ?z 0)) (true (c ?x 19)) (t ?x ?z))(<= terminal (true (c 9 19)))"
+            + "(<= (junk (j ?x ?y (i ?x ?k ?y)) (h ?k ?x ?y)) (true (c ?x ?y)) (d ?k))(<= (more (l ?m) (n ?m)) (does a ?m))";
     }
 
     private static void explore(RuleSheets x) {

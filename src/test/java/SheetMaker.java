@@ -178,12 +178,15 @@ final class SheetMaker {
 
     /** A counter with ways to and fro, so that recursion and many states come. */
     String pathGame() {
-        int size = 4 + chance.nextInt(12);
+        int size = 4 + chance.nextInt(in(6) ? 10 : 4);
         StringBuilder out = new StringBuilder("(role a)").append(in(3) ? "" : "(role b)");
         for (int k = 0; k + 1 < size; k++) {
             out.append("(succ ").append(k).append(' ').append(k + 1).append(')');
         }
-        out.append("(<= (less ?x ?y) (succ ?x ?y))(<= (less ?x ?z) (less ?x ?y) (less ?y ?z))\n");
+        String[] ways = {"(less ?x ?y) (succ ?y ?z)", "(succ ?x ?y) (less ?y ?z)", "(less ?x ?y) (less ?y ?z) (num ?y)",
+            "(num ?y) (less ?y ?z) (less ?x ?y)", "(less ?x ?y) (also ?y ?z) (num ?y)", "(less ?x ?y) (less ?y ?z)"};
+        String way = ways[chance.nextInt(in(3) ? 6 : 5)];
+        out.append("(<= (num ?x) (succ ?x ?y))(<= (also ?x ?y) (less ?x ?y))(<= (less ?x ?y) (succ ?x ?y))(<= (less ?x ?z) ").append(way).append(")\n");
         out.append(in(2) ? "(init (c 0))" : "(<= (init (c ?x)) (succ ?x 2))").append(in(2) ? "(init (d 0 0))" : "");
         out.append("(<= (legal a (to ?y)) (true (c ?x)) (succ ?x ?y))(<= (legal a stay) (true (c ?x)))(legal b wait)");
         out.append(in(2) ? "(<= (legal b (to ?y)) (true (c ?x)) (succ ?y ?x))" : "");
