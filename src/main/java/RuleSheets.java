@@ -120,16 +120,12 @@ public final class RuleSheets {
         int found = checker.check(fresh);
         faultAt = checker.where;
         if (found == 0) {
-            adopt(fresh);
+            current = fresh;
+            model.load(fresh);
+            hasState = false;
+            explored = UNKNOWN;
         }
         return found;
-    }
-
-    private void adopt(Sheet fresh) {
-        current = fresh;
-        model.load(fresh);
-        hasState = false;
-        explored = UNKNOWN;
     }
 
     public int fault() {
@@ -472,6 +468,8 @@ public final class RuleSheets {
         private int rules;
         /** The rules in groups, so that what one needs of other groups is ahead of it. */
         private final int[] order = new int[MAX_RULES];
+        /** So many of them bring the same whatever state and moves are. */
+        private int steady;
         private final boolean[] endsGroup = new boolean[MAX_RULES];
         private final boolean[] recursive = new boolean[MAX_RULES];
 
@@ -738,6 +736,8 @@ public final class RuleSheets {
         /** Relations that are some head's have the bits from 0 on; true and does have these. */
         private static final int TRUE_BIT = 60;
         private static final int DOES_BIT = 61;
+        /** More than all that can be needed. */
+        private static final int CHANGING = 64;
 
         private final int[] numberOfTerms = new int[MAX_NAMES];
         private final int[] bitOf = new int[MAX_NAMES];
@@ -958,11 +958,13 @@ public final class RuleSheets {
          * A relation needs all that those need that it needs, so it needs more than any of them
          * unless they need it, too: to sort by that number puts all that is needed ahead. Those of
          * one number are a group; they need one another, or have nothing to do with each other.
+         * What needs neither true nor does goes ahead of all that does.
          */
         private void arrange() {
+            sheet.steady = 0;
             for (int r = 0; r < sheet.rules; r++) {
-                int head = headBit(r);
-                needed[r] = Long.bitCount(needs[head] | 1L << head);
+                needed[r] = numberNeeded(headBit(r));
+                sheet.steady += needed[r] < CHANGING ? 1 : 0;
                 int k = r;
                 while (k > 0 && needed[sheet.order[k - 1]] > needed[r]) {
                     sheet.order[k] = sheet.order[k - 1];
@@ -973,6 +975,12 @@ public final class RuleSheets {
             for (int k = 0; k < sheet.rules; k++) {
                 sheet.endsGroup[k] = k + 1 == sheet.rules || needed[sheet.order[k]] < needed[sheet.order[k + 1]];
             }
+        }
+
+        private int numberNeeded(int head) {
+            long all = needs[head] | 1L << head;
+            boolean changes = (all >> TRUE_BIT) != 0;
+            return Long.bitCount(all) + (changes ? CHANGING : 0);
         }
     }
 
@@ -1219,13 +1227,14 @@ public final class RuleSheets {
             Arrays.fill(first, NONE);
         }
 
-        void clear() {
-            for (int a = 0; a < count; a++) {
-                bucket[slot[a]] = NONE;
+        /** Drops all atoms from mark on; none of their relations has one ahead of it. */
+        void release(int mark) {
+            for (int a = count - 1; a >= mark; a--) {
+                bucket[slot[a]] = link[a];
                 first[name[a]] = NONE;
                 number[name[a]] = 0;
             }
-            count = 0;
+            count = Math.min(count, mark);
         }
 
         private int slotOfRow(int itsName, int n) {
@@ -1321,6 +1330,12 @@ public final class RuleSheets {
         /** A condition that is held to one atom, and the atom; those ahead take only older ones. */
         private int pinned;
         private int pin;
+        /** The rules that are worked out, by their places in the sheet's order. */
+        private int begin;
+        private int behind;
+        /** The atoms that rules ahead of these have brought, and whether they are too great. */
+        private int steady;
+        private boolean hopeless;
         private boolean great;
         private long work;
 
@@ -1329,9 +1344,23 @@ public final class RuleSheets {
             Arrays.fill(bound, NONE);
         }
 
+        /** Takes a sheet, and brings for good what depends on no state. */
         void load(Sheet itsSheet) {
             sheet = itsSheet;
             terms.load(sheet.names);
+            loadRoles();
+            atoms.release(0);
+            great = false;
+            begin = 0;
+            behind = sheet.steady;
+            hopeless = !workOut();
+            steady = atoms.count;
+            terms.base = terms.top;
+            begin = sheet.steady;
+            behind = sheet.rules;
+        }
+
+        private void loadRoles() {
             for (int r = 0; r < sheet.rules; r++) {
                 int head = sheet.firstPart[r];
                 if (sheet.relation(head) == ROLE) {
@@ -1340,18 +1369,19 @@ public final class RuleSheets {
                     terms.addRole(atoms.row[0]);
                 }
             }
-            terms.base = terms.top;
         }
 
+        /** Drops all but what depends on no state. */
         void clear() {
-            atoms.clear();
+            atoms.release(steady);
+            great = hopeless;
         }
 
-        void assumeState(int[] some, int begin, int behind) {
-            atoms.clear();
-            for (int k = begin; k < behind; k++) {
+        void assumeState(int[] some, int from, int to) {
+            clear();
+            for (int k = from; k < to; k++) {
                 atoms.row[0] = some[k];
-                atoms.add(TRUE << 3 | 1);
+                great = great || !atoms.add(TRUE << 3 | 1);
             }
         }
 
@@ -1362,7 +1392,7 @@ public final class RuleSheets {
                 int n = position.movesOf(r);
                 atoms.row[0] = terms.role[r];
                 atoms.row[1] = position.move[position.moveStart[r] + (n > 0 ? rest % n : 0)];
-                atoms.add(DOES << 3 | 2);
+                great = great || !atoms.add(DOES << 3 | 2);
                 rest = n > 0 ? rest / n : 0;
             }
         }
@@ -1373,11 +1403,10 @@ public final class RuleSheets {
          * too, is taken in turn for the conditions that it fits.
          */
         boolean workOut() {
-            great = false;
-            int begin = 0;
+            int group = begin;
             int fresh = atoms.count;
             boolean again = false;
-            for (int k = 0; k < sheet.rules && !great; k++) {
+            for (int k = begin; k < behind && !great; k++) {
                 if (sheet.recursive[sheet.order[k]]) {
                     again = true;
                 } else {
@@ -1385,11 +1414,11 @@ public final class RuleSheets {
                 }
                 if (sheet.endsGroup[k]) {
                     for (int a = fresh; again && a < atoms.count && !great; a++) {
-                        for (int n = begin; n <= k; n++) {
+                        for (int n = group; n <= k; n++) {
                             runWith(sheet.order[n], a);
                         }
                     }
-                    begin = k + 1;
+                    group = k + 1;
                     fresh = atoms.count;
                     again = false;
                 }
@@ -1606,15 +1635,15 @@ public final class RuleSheets {
             position.over = atoms.number[TERMINAL] > 0;
             position.moveStart[0] = 0;
             for (int r = 0; r < terms.roles; r++) {
-                int begin = position.moveStart[r];
+                int from = position.moveStart[r];
                 int n = 0;
                 for (int a = atoms.first[LEGAL]; a != NONE; a = atoms.later[a]) {
                     if (atoms.arg[MAX_TERMS * a] == terms.role[r]) {
-                        terms.insert(position.move, begin, n, atoms.arg[MAX_TERMS * a + 1]);
+                        terms.insert(position.move, from, n, atoms.arg[MAX_TERMS * a + 1]);
                         n++;
                     }
                 }
-                position.moveStart[r + 1] = begin + n;
+                position.moveStart[r + 1] = from + n;
                 position.goal[r] = goalOf(terms.role[r]);
             }
         }
