@@ -1698,7 +1698,6 @@ public final class RuleSheets {
         void open(Position position) {
             count = 0;
             work = 0;
-            great = false;
             int mark = terms.top;
             model.clear();
             great = !model.workOut() || isTooMuch() || !model.tellState(INIT, position);
