@@ -1033,11 +1033,11 @@ public final class RuleSheets {
             }
         }
 
-        /** Makes room for so many more terms. */
+        /** Makes room for so many more terms; in great steps, as what the old rows took stays counted. */
         void reserve(int more) {
             int all = shape.length;
-            for (int k = 0; k < 16 && all < top + more; k++) {
-                all *= 2;
+            for (int k = 0; k < 8 && all < top + more; k++) {
+                all *= 4;
             }
             if (all > shape.length) {
                 grow(all);
