@@ -7,6 +7,14 @@ final class Check {
         long answer();
     }
 
+    interface Ask {
+        long of(RuleSheets x);
+    }
+
+    interface Maker {
+        RuleSheets make();
+    }
+
     private Check() {
     }
 
@@ -96,6 +104,38 @@ final class Check {
         RuleSheets x = with(text);
         due("read() of " + text, kind, x::read);
         due("fault() of " + text, where, x::fault);
+    }
+
+    /** A text that is a sheet without a fault. */
+    static void well(String text) {
+        fault(text, 0, -1);
+    }
+
+    /** A text that is no sheet; the fault is where | stands, which is left out. */
+    static void noSheet(String marked) {
+        fault(marked.replace("|", ""), 1, marked.indexOf('|'));
+    }
+
+    /** So many rules are read from a text without a fault. */
+    static void rules(String text, int count) {
+        due("rules of " + text, count, () -> reading(text).sheet(0));
+    }
+
+    /** A call is refused, and an object that has seen it answers in all as one that hasn't. */
+    static void leaves(String what, Class<? extends RuntimeException> want, Maker maker, Ask call) {
+        RuleSheets asked = maker.make();
+        RuleSheets other = maker.make();
+        refused(what, want, () -> call.of(asked));
+        same("all behind " + what, Look.at(other), Look.at(asked));
+    }
+
+    /** One rule for each number below count: the atom of a name and that number. */
+    static String facts(String name, int count) {
+        StringBuilder out = new StringBuilder();
+        for (int k = 0; k < count; k++) {
+            out.append('(').append(name).append(' ').append(k).append(')');
+        }
+        return out.toString();
     }
 
     static String text(RuleSheets x, int what, int i) {

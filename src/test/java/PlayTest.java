@@ -1,4 +1,4 @@
-/** Promises 7 (start), 8 (moves), 9 (terminal), 10 (goal), 11 (play) and 12 (sign), and what holds. */
+/** Promises 7 (start), 8 (moves), 9 (terminal), 10 (goal), 11 (play) and 12 (sign); what is refused of them: RefusedTest. */
 public final class PlayTest {
     /** Two take one or two of a heap of four in turn; who takes the last one wins. */
     static final String HEAP = "(role first) (role second)\n"
@@ -16,7 +16,7 @@ public final class PlayTest {
     private PlayTest() {
     }
 
-    private static String all(RuleSheets x, int what, int count) {
+    static String all(RuleSheets x, int what, int count) {
         StringBuilder out = new StringBuilder();
         for (int i = 0; i < count; i++) {
             out.append(i == 0 ? "" : " ").append(Check.text(x, what, i));
@@ -24,12 +24,12 @@ public final class PlayTest {
         return out.toString();
     }
 
-    private static void terms(String what, RuleSheets x, int count, String want) {
+    static void terms(String what, RuleSheets x, int count, String want) {
         Check.same(what, want, all(x, 0, count));
         Check.refused(what + ": one more", IndexOutOfBoundsException.class, () -> x.sign(0, count, 0));
     }
 
-    private static void moves(String what, RuleSheets x, int role, int count, String want) {
+    static void moves(String what, RuleSheets x, int role, int count, String want) {
         Check.due(what + ": how many", count, () -> x.moves(role));
         Check.same(what, want, all(x, 1 + role, count));
         Check.refused(what + ": one more", IndexOutOfBoundsException.class, () -> x.sign(1 + role, count, 0));
@@ -96,122 +96,7 @@ public final class PlayTest {
         Check.due("sign behind a role's end", 0, () -> x.sign(5, 0, 5));
     }
 
-    /** Sign by sign: ( ahead of names, a text that ends ahead of one that goes on, a blank ahead of ) . */
-    private static void order() {
-        RuleSheets x = Check.started("(init b)(init ab)(init a)(init a_)(init a0)(init aa)(init 9)(init 10)(init _)"
-            + "(init (b c))(init (a c))(init (a c d))(init (a c d e))(init (a b z))(init (ab c))"
-            + "(init (a (c d)))(init (a (c d e) b))(init (a ca))(init (b c d))(init (b (b c)))(init z)(init z)");
-        terms("fewer terms behind more", Check.started("(init (q r))(init (q r z))(init (q r a))(init (q r a z))"), 4, "(q r a z) (q r a) (q r z) (q r)");
-        terms("states in order", x, 21, "(a (c d e) b) (a (c d)) (a b z) (a c d e) (a c d) (a c) (a ca) (ab c)"
-            + " (b (b c)) (b c d) (b c) 10 9 _ a a0 a_ aa ab b z");
-    }
-
-    private static void goals() {
-        RuleSheets x = Check.started("(role a)(role b)(role c)(role d)(role e)"
-            + "(goal a 0)(goal a 00)(goal a 000)(goal a 101)(goal a 1000)(goal a 0000)(goal a x)(goal a (f 1))(goal a 1a)"
-            + "(goal b 100)(goal b x)(goal b 1x)(goal b 1000)(goal b 0000)(goal c 99)(goal c 099)(goal c 9)(goal e 3)(goal z 3)(goal d 200)");
-        Check.due("a goal told in several ways", 0, () -> x.goal(0));
-        Check.due("a goal of 100", 100, () -> x.goal(1));
-        Check.due("several goals", -2, () -> x.goal(2));
-        Check.due("no goal", -1, () -> x.goal(3));
-        Check.refused("the fifth role has no part", IndexOutOfBoundsException.class, () -> x.goal(4));
-    }
-
-    private static void noRoles() {
-        RuleSheets x = Check.started("(init a)(legal a b)(goal a 1)");
-        Check.refused("play(0) without roles", IndexOutOfBoundsException.class, () -> x.play(0));
-        Check.refused("moves(0) without roles", IndexOutOfBoundsException.class, () -> x.moves(0));
-        Check.refused("sign(1,0,0) without roles", IndexOutOfBoundsException.class, () -> x.sign(1, 0, 0));
-        RuleSheets y = Check.started("(role a)(role b)(legal a b)");
-        Check.due("a role without moves", 0, () -> y.moves(1));
-        Check.refused("play(0) if a role has no move", IndexOutOfBoundsException.class, () -> y.play(0));
-    }
-
-    /** The first role's moves count most; further roles than four have no part. */
-    private static void joint() {
-        String sheet = "(role a)(role b)(role c)(role d)(role e)"
-            + "(legal a 1)(legal a 2)(legal b 1)(legal b 2)(legal b 3)(legal c 1)(legal d 2)(legal d 1)(legal e 5)"
-            + "(<= (next (did ?r ?m)) (does ?r ?m))(<= terminal (true (did a 1)))";
-        RuleSheets x = Check.started(sheet);
-        for (int j = 0; j < 12; j++) {
-            int move = j;
-            x.start();
-            Check.due("play(" + j + ")", 4, () -> x.play(move));
-            terms("joint move " + j, x, 4, "(did a " + (1 + j / 6) + ") (did b " + (1 + j / 2 % 3) + ") (did c 1) (did d " + (1 + j % 2) + ")");
-        }
-        Check.due("a terminal state is played on", 4, () -> x.play(0));
-        Check.due("it is terminal", 1, () -> x.terminal() ? 1 : 0);
-        Check.due("and on", 4, () -> x.play(11));
-        Check.refused("no joint move 12", IndexOutOfBoundsException.class, () -> x.play(12));
-    }
-
-    private static void manyJoint() {
-        StringBuilder out = new StringBuilder("(role a)(role b)(role c)(role d)");
-        for (int k = 0; k < 15; k++) {
-            out.append("(d ").append((char) ('a' + k)).append(")");
-        }
-        out.append("(<= (legal ?r (m ?x ?y)) (role ?r) (d ?x) (d ?y))(<= (next (did ?r ?m)) (does ?r ?m))");
-        RuleSheets x = Check.started(out.toString());
-        for (int j : new int[] {Integer.MAX_VALUE, 2000000000, 225 * 225 * 225, 1}) {
-            x.start();
-            Check.due("play(" + j + ") of more than an int tells", 4, () -> x.play(j));
-            StringBuilder want = new StringBuilder();
-            long part = 225L * 225 * 225;
-            for (int r = 0; r < 4; r++) {
-                int n = (int) (j / part % 225);
-                want.append(r == 0 ? "" : " ").append("(did ").append("abcd".charAt(r)).append(" (m ")
-                    .append((char) ('a' + n / 15)).append(' ').append((char) ('a' + n % 15)).append("))");
-                part /= 225;
-            }
-            terms("joint move " + j, x, 4, want.toString());
-        }
-    }
-
-    /** What holds is told by moves of a role a. */
-    private static void holds(String rules, int count, String want) {
-        RuleSheets x = Check.started("(role a)" + rules);
-        moves("moves by " + rules, x, 0, count, want);
-    }
-
-    private static void whatHolds() {
-        holds("(p b)(p c)(<= (legal a ?x) (p ?x))", 2, "b c");
-        holds("(p b)(p c)(q c)(<= (legal a ?x) (p ?x) (q ?x))", 1, "c");
-        holds("(p b)(p c)(q c)(<= (legal a ?x) (p ?x) (not (q ?x)))", 1, "b");
-        holds("(p b)(p c)(<= (legal a (f ?x ?y)) (p ?x) (p ?y) (distinct ?x ?y))", 2, "(f b c) (f c b)");
-        holds("(p b)(<= (legal a ?x) (p ?x) (distinct (f ?x) (f b)))", 0, "");
-        holds("(p b)(p (g b))(<= (legal a ?x) (p ?x) (distinct (g ?x) (g (g b))))", 1, "b");
-        holds("(p (g b))(p b)(<= (legal a ?x) (p (g ?x)) (distinct (g ?x) b) (distinct ?x c))", 1, "b");
-        holds("(p b b)(p b c)(<= (legal a ?x) (p ?x ?x))", 1, "b");
-        holds("(p (f b (g c)))(p (f b d))(p (f b))(<= (legal a ?x) (p (f ?y (g ?x))))", 1, "c");
-        holds("(p (f b))(p (f b c))(<= (legal a ?x) (p (f ?x)))", 1, "b");
-        holds("(<= (legal a b) (not p))(<= (legal a c) (not q))(<= q (not p))", 1, "b");
-        holds("(<= (legal a b) q)(<= q r)(<= r q)", 0, "");
-        holds("(<= (legal a b) (not q))(<= q r)(<= r q)", 1, "b");
-        holds("(<= (legal a b) (not (p (f (f (f c))))))(p c)", 1, "b");
-        holds("(e 1 2)(e 2 3)(e 3 4)(e 4 2)(<= (w ?x ?y) (e ?x ?y))(<= (w ?x ?z) (w ?x ?y) (e ?y ?z))(<= (legal a ?x) (w 2 ?x))", 3, "2 3 4");
-        holds("(e 1 2)(e 2 3)(e 3 4)(<= (w ?z) (e 1 ?z))(<= (v ?z) (w ?y) (e ?y ?z))(<= (w ?z) (v ?y) (e ?y ?z))"
-            + "(<= (legal a (w ?x)) (w ?x))(<= (legal a (v ?x)) (v ?x))", 3, "(v 3) (w 2) (w 4)");
-        holds("(n 0)(s 0 1)(s 1 2)(<= (n ?y) (n ?x) (s ?x ?y))(<= (legal a ?x) (n ?x) (not (last ?x)))(<= (last ?x) (n ?x) (not (on ?x)))(<= (on ?x) (s ?x ?y))", 2, "0 1");
-        holds("(<= (legal a b) (role a) (legal c d))(<= (legal c d) (distinct a b))", 1, "b");
-        holds("(<= (legal a b) (true c))(<= (legal a d) (not (true c)))(init c)", 1, "b");
-        holds("(<= (legal a b) (not (true c)))(<= (legal a d) (not (not_ c)))", 2, "b d");
-        holds("(<= (legal ?x ?y) (role ?x) (goal ?x ?y))(goal a 5)(goal b 6)", 1, "5");
-        holds("(k 1)(k 2)(k 3)(k 4)(e 1 2)(e 2 3)(<= (w ?y) (e 1 ?y))(<= (w ?z) (w ?y) (e ?y ?z))(<= (legal a ?x) (k ?x) (not (w ?x)))", 2, "1 4");
-        holds("(q role)(p b)(<= (legal a ?x) (p ?x) (not (q (f ?x))))", 1, "b");
-        holds("(p role)(p init)(<= (legal a m) (p role))(<= (legal a n) (p next))(<= (legal a role) (p ?x) (distinct ?x role))"
-            + "(<= (legal a (f role)) (p init) (distinct role next))(<= (legal a o) (distinct role role))", 3, "(f role) m role");
-    }
-
-    /** Conditions of both kinds of a group see atoms that come late. */
-    private static void lateAtoms() {
-        holds("(e 1 2)(e 2 3)(e 3 4)(e 4 5)(d 1)(d 2)(d 3)(d 4)(d 5)"
-            + "(<= (w ?x ?y) (e ?x ?y))(<= (w ?x ?z) (w ?x ?y) (w ?y ?z) (d ?y))(<= (legal a ?x) (w 1 ?x))", 4, "2 3 4 5");
-        holds("(d 1)(d 2)(d 3)(<= (p ?x) (q ?x))(<= (q 1))(<= (q ?y) (p ?x) (s ?x ?y))(s 1 2)(s 2 3)"
-            + "(<= (both ?x ?y) (p ?x) (q ?y) (d ?x) (d ?y))(<= (legal a (f ?x ?y)) (both ?x ?y))", 9,
-            "(f 1 1) (f 1 2) (f 1 3) (f 2 1) (f 2 2) (f 2 3) (f 3 1) (f 3 2) (f 3 3)");
-    }
-
-    /** More terms and names than there is room for at first, many of them of one length. */
+    /** More terms than there is room for at first, many of them of one length. */
     private static void manyTerms() {
         StringBuilder out = new StringBuilder("(role a)");
         StringBuilder want = new StringBuilder();
@@ -228,22 +113,102 @@ public final class PlayTest {
         Check.due("a move among them", 1, () -> x.play(777));
         Check.same("that move", "(f (g 37) (h (g 31) 37))", Check.text(x, 0, 0));
         moves("many terms again", x, 0, 784, want.toString());
-        StringBuilder names = new StringBuilder();
-        StringBuilder due = new StringBuilder();
-        for (int k = 0; k < 60; k++) {
-            String name = "" + (char) ('a' + k % 20) + (char) ('a' + k / 20) + (char) ('a' + k % 7);
-            names.append("(init ").append(name).append(')');
-        }
-        java.util.TreeSet<String> sorted = new java.util.TreeSet<>();
-        for (String part : names.toString().split("[()]")) {
-            if (part.startsWith("init ")) {
-                sorted.add(part.substring(5));
+    }
+
+    /** "The state becomes the initial one: how many terms it has", from whatever state it was. */
+    private static void starts() {
+        RuleSheets x = Check.reading(HEAP);
+        for (int steps = 0; steps < 4; steps++) {
+            Check.due("start() behind " + steps + " steps", 2, x::start);
+            terms("the initial state", x, 2, "(heap 4) (turn first)");
+            Check.due("its moves", 2, () -> x.moves(0));
+            for (int n = 0; n < steps; n++) {
+                x.play(0);
             }
         }
-        for (String name : sorted) {
-            due.append(due.length() == 0 ? "" : " ").append(name);
+        Check.due("start() of an empty state", 0, Check.reading("p")::start);
+        Check.leaves("start() without a sheet", IllegalStateException.class, () -> Check.with(HEAP), RuleSheets::start);
+        Check.leaves("start() of what is too great", UnsupportedOperationException.class, () -> Check.reading("(init a)" + HoldsTest.atoms(22)), RuleSheets::start);
+    }
+
+    /** "How many moves role r has in the state": none, one, and many; and whatever the state was asked before. */
+    private static void countsOfMoves() {
+        RuleSheets x = Check.started(HEAP);
+        int[][] due = {{2, 1}, {1, 2}, {2, 1}, {1, 1}, {0, 1}};
+        for (int n = 0; n < due.length; n++) {
+            int step = n;
+            for (int r = 0; r < 2; r++) {
+                int role = r;
+                Check.due("moves(" + r + ") behind " + n + " steps", due[step][role], () -> x.moves(role));
+                Check.due("moves(" + r + ") once more", due[step][role], () -> x.moves(role));
+            }
+            if (n + 1 < due.length) {
+                Check.due("play(0)", 2, () -> x.play(0));
+            }
         }
-        terms("many names", Check.started(names.toString()), 60, due.toString());
+        Check.refused("play(0) where a role has no move", IndexOutOfBoundsException.class, () -> x.play(0));
+    }
+
+    /** "The goal of role r in the state; NONE if there is none, -2 if there are several." */
+    private static void goals() {
+        String sheet = "(role a)(role b)(role c)(init s)(legal a m)(legal b m)(legal c m)(<= (next t) (does a m))"
+            + "(<= (goal a 0) (true s))(<= (goal a 1) (true t))(<= (goal b 100) (true s))(<= (goal b 99) (true s))(goal c x)(<= (goal c 2) (true t))";
+        RuleSheets x = Check.started(sheet);
+        int[][] due = {{0, -2, -1}, {1, -1, 2}};
+        for (int n = 0; n < 2; n++) {
+            for (int r = 0; r < 3; r++) {
+                int role = r;
+                int want = due[n][r];
+                Check.due("goal(" + r + ") behind " + n + " steps", want, () -> x.goal(role));
+            }
+            x.play(0);
+        }
+    }
+
+    /** "The state becomes the next one by joint move j (terminal or not): how many terms it has." */
+    private static void playsOn() {
+        RuleSheets x = Check.started("(role a)(legal a m)(legal a n)terminal(<= (next (f ?m)) (does a ?m))(<= (next s) (does a n))");
+        Check.due("a terminal state", 1, () -> x.terminal() ? 1 : 0);
+        Check.due("is played on", 1, () -> x.play(0));
+        terms("by the first move", x, 1, "(f m)");
+        Check.due("and on", 2, () -> x.play(1));
+        terms("by the last move", x, 2, "(f n) s");
+        Check.due("it is terminal still", 1, () -> x.terminal() ? 1 : 0);
+        Check.leaves("play(2)", IndexOutOfBoundsException.class, () -> Check.started("(role a)(legal a m)(legal a n)terminal"), y -> y.play(2));
+    }
+
+    private static void signs(String what, RuleSheets x, int from, int i, String text) {
+        for (int k = 0; k < text.length(); k++) {
+            int place = k;
+            Check.due("sign " + k + " of " + what, text.charAt(k), () -> x.sign(from, i, place));
+        }
+        for (int k : new int[] {text.length(), text.length() + 1, text.length() + 48, 2000, Integer.MAX_VALUE}) {
+            Check.due("sign " + k + " of " + what, 0, () -> x.sign(from, i, k));
+        }
+    }
+
+    /** "Sign k of a text (0 behind its end): of what = 0 the state's i-th term, 1 + r the i-th move of role r, 5 role i." */
+    private static void everySign() {
+        String[] texts = {"a", "abcdefghijklmnop", "(f a)", "(f ab cd ef)", "(f (g a) b (h c d) (i (j k) l m n))", "(f (g (h (i (j (k (l (m (n z)))))))))"};
+        for (String text : texts) {
+            RuleSheets x = Check.started("(role r)(role " + text + ")(init b)(init " + text + ")(legal r zz)(<= (legal r ?x) (true ?x) (distinct ?x b))");
+            signs("a term", x, 0, 0, text);
+            signs("a move", x, 1, 0, text);
+            signs("another move", x, 1, 1, "zz");
+            signs("a role", x, 5, 0, "r");
+            signs("another role", x, 5, 1, text);
+        }
+        RuleSheets x = Check.started("(role a)(role b)(role c)(role d)(legal a ma)(legal b mb)(legal b nb)(legal c mc)(legal d md)(legal d nd)");
+        signs("the first role's move", x, 1, 0, "ma");
+        signs("the second role's move", x, 2, 1, "nb");
+        signs("the third role's move", x, 3, 0, "mc");
+        signs("the fourth role's move", x, 4, 1, "nd");
+        signs("the fourth role", x, 5, 3, "d");
+        int[] moves = {1, 2, 1, 2};
+        for (int r = 0; r < 4; r++) {
+            int role = r;
+            Check.refused("no further move of role " + r, IndexOutOfBoundsException.class, () -> x.sign(1 + role, moves[role], 0));
+        }
     }
 
     private static void longTerms() {
@@ -277,13 +242,11 @@ public final class PlayTest {
         heap();
         noState();
         wrongNumbers();
-        order();
+        starts();
+        countsOfMoves();
         goals();
-        noRoles();
-        joint();
-        manyJoint();
-        whatHolds();
-        lateAtoms();
+        playsOn();
+        everySign();
         manyTerms();
         longTerms();
         longGame();
