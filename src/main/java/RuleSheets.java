@@ -560,7 +560,7 @@ public final class RuleSheets {
             sheet.clear();
             cut(text, signs);
             at = 0;
-            while (sheet.rules < MAX_RULES && code[at] != END) {
+            for (int n = 0; n < MAX_RULES && code[at] != END; n++) {
                 if (!takeRule()) {
                     return place[at];
                 }
@@ -1177,7 +1177,7 @@ public final class RuleSheets {
         int signAt(int term, int place) {
             int t = term;
             int k = place;
-            while (k < size[t] && (shape[t] & 7) > 0) {
+            for (int level = 0; level < MAX_TERM_SIGNS && k < size[t] && (shape[t] & 7) > 0; level++) {
                 int name = shape[t] >> 3;
                 if (k == 0) {
                     return '(';

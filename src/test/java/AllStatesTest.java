@@ -60,6 +60,31 @@ public final class AllStatesTest {
             new int[][] {{1, 1}, {1, 1}});
     }
 
+    /** A state is known only if all its terms are alike: forty of two names each, near to one another, are forty. */
+    private static void unlike() {
+        StringBuilder out = new StringBuilder();
+        for (int k = 0; k < 68; k++) {
+            out.append(k % 4 == 0 ? "(d " : " ").append('n').append(k / 10).append(k % 10).append(k % 4 == 3 ? ")" : "");
+        }
+        for (int k = 0; k < 20; k++) {
+            out.append("(e");
+            for (int n : new int[] {k, k + 45, k + 1, k + 14}) {
+                out.append(" n").append(n / 10).append(n % 10);
+            }
+            out.append(')');
+        }
+        out.append("(role a)(init s)(<= (legal a (m ?x ?y)) (e ?x ?y ?z ?w))(<= (legal a (m ?x ?y)) (e ?z ?w ?x ?y))");
+        out.append("(<= (next ?x) (does a (m ?x ?y)))(<= (next ?y) (does a (m ?x ?y)))(<= terminal (not (true s)))");
+        RuleSheets x = explored(out.toString(), 41);
+        for (int n = 1; n < 41; n++) {
+            int s = n;
+            Check.due("next(0," + (n - 1) + ")", n, () -> x.next(0, s - 1));
+            Check.due("terms of state " + n, 2, () -> x.state(s, 0));
+        }
+        nexts("(role a)(legal a m)(legal a n)(legal a o)(init s)(<= (next (f ?m)) (does a ?m))(<= (next f) (does a o))(<= (next (f o)) (does a m))"
+            + "(<= terminal (not (true s)))", new int[][] {{1, 2, 3}, {}, {}, {}});
+    }
+
     /** "of one that isn't terminal the next states by all its joint moves": of one that is there are none. */
     private static void noneOfTerminal() {
         nexts("(role a)(legal a m)(init s)(<= (next t) (true s))(<= (next u) (true t))(<= terminal (true t))", new int[][] {{1}, {}});
@@ -157,6 +182,8 @@ public final class AllStatesTest {
         RuleSheets x = Check.started(work(""));
         Check.due("its moves", 1, () -> x.moves(0));
         Check.due("explore() of it with a state", 20, x::explore);
+        Check.due("read() of it once more", 0, x::read);
+        Check.due("its work is counted anew", 20, x::explore);
     }
 
     /** "(of the initial state, of no state and no moves; of each state without moves, the initial one, too; and .. by each joint move)" */
@@ -288,6 +315,9 @@ public final class AllStatesTest {
         defect(graph("01 02 13 24 42", "0", "3:100"), 5, 6, 2);
         defect(graph("01 12 20", "0", "3:100"), 3, 6, 0);
         defect(graph("01 12 23 33", "0", "3:100"), 4, 6, 3);
+        for (int least : new int[] {0, 1, 62, 63, 64, 65, 126, 127, 128, 129, 191, 192, 255, 256, 257, 298, 299}) {
+            defect(counter(30, "(<= (next (c " + least / 30 + " " + least % 30 + ")) (true (c 9 29)))"), 300, 6, least);
+        }
         // Other defects go ahead, also those of later states.
         defect(graph("00 01", "0", "1:7"), 2, 4, 1);
         defect(graph("01 10 12", "0", "2:7"), 3, 4, 2);
@@ -346,6 +376,7 @@ public final class AllStatesTest {
 
     public static void main(String[] args) {
         numbers();
+        unlike();
         noneOfTerminal();
         threeHundred();
         fortyMoves();

@@ -138,10 +138,11 @@ final class Check {
         return out.toString();
     }
 
+    /** A text, asked for sign by sign up to its end. */
     static String text(RuleSheets x, int what, int i) {
         StringBuilder out = new StringBuilder();
-        for (int k = 0; x.sign(what, i, k) != 0; k++) {
-            out.append((char) x.sign(what, i, k));
+        for (int sign = x.sign(what, i, 0); sign != 0; sign = x.sign(what, i, out.length())) {
+            out.append((char) sign);
         }
         return out.toString();
     }

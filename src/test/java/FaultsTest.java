@@ -196,6 +196,14 @@ public final class FaultsTest {
         }
         Check.fault(chain + "(<= p58 (does a b))", 4, 3);
         Check.well(chain + "(<= p58 (true a))");
+        // As many relations as rules, the last of which all others depend on, but on neither true nor does.
+        StringBuilder all = new StringBuilder("(<= (init a) w)(<= (legal a a) w)(<= (goal a a) w)(<= terminal w)(<= (next a) w (true a) (does a a))");
+        for (int k = 0; k < 54; k++) {
+            all.append("(<= p").append(k).append(" w)");
+        }
+        Check.well(all + "w");
+        Check.fault(all.toString().replace("(<= p53 w)", "") + "w(<= w (does a a))", 4, 0);
+        Check.fault("w" + all.toString().replace("(<= p53 w)", "") + "(<= w (not (true a)))", 4, 0);
     }
 
     /** "the first of these four is told" */

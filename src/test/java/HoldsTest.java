@@ -71,6 +71,16 @@ public final class HoldsTest {
         holds("(p role)(p init)(<= (legal a m) (p role))(<= (legal a n) (p next))(<= (legal a role) (p ?x) (distinct ?x role))"
             + "(<= (legal a (f role)) (p init) (distinct role next))(<= (legal a o) (distinct role role))", 3, "(f role) m role");
         holds("(<= (legal a b) (distinct (f c) (f c d)))(<= (legal a c) (distinct (f c) (g c)))(<= (legal a d) (distinct f (f c)))", 3, "b c d");
+        holds("(p role)(p init)(<= (legal a ?x) (p ?x) (distinct role ?x))", 1, "init");
+        holds("(p role)(p init)(<= (legal a ?x) (p ?x) (distinct ?x role))", 1, "init");
+        holds("(p (f b c))(p (f c b))(p (f b b))(<= (legal a ?x) (p ?x) (distinct ?x (f b b)))", 2, "(f b c) (f c b)");
+        holds("(p b c)(p c b)(p b b)(<= (legal a (g ?x ?y)) (p ?x ?y) (distinct (f ?x ?y) (f ?y ?x)))", 2, "(g b c) (g c b)");
+        holds("(p b c)(p c b)(p b b)(<= (legal a (g ?x ?y)) (p ?x ?y) (distinct (f b ?y) (f ?x b)))", 2, "(g b c) (g c b)");
+        holds("(p b c)(p c b)(p b b)(<= (legal a (g ?x ?y)) (p ?x ?y) (distinct (f a ?x a ?y) (f a b a c)))", 2, "(g b b) (g c b)");
+        holds("(p b c)(p c b)(p b b)(<= (legal a (g ?x ?y)) (p ?x ?y) (distinct (f (h ?x d) (h ?y ?x)) (f (h b d) (h c b))))", 2, "(g b b) (g c b)");
+        holds("(<= (legal a b) (distinct (f c d) (f c d)))(<= (legal a c) (distinct (f c d) (f d d)))(<= (legal a d) (distinct (f c d) (f c c)))", 2, "c d");
+        holds("(p b c)(q b c)(q c b)(q b b)(<= (legal a (g ?x ?y)) (q ?x ?y) (not (p ?x ?y)))", 2, "(g b b) (g c b)");
+        holds("(p (f b c))(q b c)(q c b)(q b b)(<= (legal a (g ?x ?y)) (q ?x ?y) (not (p (f ?x ?y))))", 2, "(g b b) (g c b)");
         holds("(p c c)(<= (legal a b) (p ?x ?y) (distinct ?x ?y))(<= (legal a d) (p ?x ?y) (not (p ?x ?y)))", 0, "");
     }
 
@@ -100,6 +110,48 @@ public final class HoldsTest {
         holds("(<= (legal a b) (not p))(<= p q)(<= q r)r", 0, "");
         holds("(<= (legal a b) (not p))(<= p (not q))(<= q (not r))", 1, "b");
         holds("(<= (legal a b) (not p))(<= p (not q))(<= q (not r))(<= r (not s))", 0, "");
+    }
+
+    /** The order in which the rules stand has no part in what holds. */
+    private static void anyOrder() {
+        String[] rules = {"(<= (init ?x) (p ?x) (not (q ?x)))", "(<= (p ?y) (p ?x) (s ?x ?y))(p 0)", "(<= (q ?x) (p ?x) (not (w ?x)))", "(<= (w ?x) (s ?x ?y))", "(s 0 1)(s 1 2)(s 3 4)(<= (p 3) (p 2))"};
+        for (int order = 0; order < 120; order++) {
+            StringBuilder text = new StringBuilder();
+            boolean[] used = new boolean[5];
+            int left = order;
+            for (int k = 5; k > 0; k--) {
+                int skip = left % k;
+                left /= k;
+                int at = 0;
+                while (used[at] || skip-- > 0) {
+                    at++;
+                }
+                used[at] = true;
+                text.append(rules[at]);
+            }
+            PlayTest.terms("order " + order, Check.started(text.toString()), 3, "0 1 3");
+        }
+        starts("with a first rule that needs the last", "(<= (init a) p) (<= p q) (<= q r) r", 1);
+        starts("with a first rule that needs that the last doesn't hold", "(<= (init a) (not p)) (<= p q) (<= q r) r", 0);
+    }
+
+    /** Terms are alike by what they are, however many come, and however they are held. */
+    private static void manyTerms() {
+        RuleSheets x = Check.started("(role a)" + Check.facts("d", 28) + "(<= (k (g ?x)) (d ?x))(<= (pair (g ?x) (e (f (g ?y) (g ?x)))) (d ?x) (d ?y))"
+            + "(<= (legal a (m ?t)) (k ?t) (pair ?t ?u))(<= (legal a (n ?t)) (pair ?t (e (f ?t ?t))))"
+            + "(<= (next (u a (e ?m ?m) b (h ?m c))) (does a ?m))(<= (next (u ?x ?y ?z ?z)) (true (u ?x ?y ?z ?w)))(<= (next (i ?w (g ?w))) (true (u ?x ?y ?z ?w)))");
+        Check.due("its moves", 56, () -> x.moves(0));
+        Check.same("the first", "(m (g 0))", Check.text(x, 1, 0));
+        Check.same("the last of one kind", "(m (g 9))", Check.text(x, 1, 27));
+        Check.same("the last of all", "(n (g 9))", Check.text(x, 1, 55));
+        int[] terms = {1, 3, 4, 4};
+        for (int count : terms) {
+            Check.due("play", count, () -> x.play(27));
+        }
+        String move = "(m (g 9))";
+        String with = "(h " + move + " c)";
+        String both = "(u a (e " + move + " " + move + ") b ";
+        PlayTest.terms("what is kept of it", x, 4, "(i " + with + " (g " + with + ")) (i b (g b)) " + both + with + ") " + both + "b)");
     }
 
     /** "(So an atom holds just if it has to.)" */
@@ -292,6 +344,8 @@ public final class HoldsTest {
         negative();
         recursion();
         strata();
+        anyOrder();
+        manyTerms();
         least();
         thousand();
         trueAndDoes();

@@ -1,13 +1,27 @@
+import java.util.ArrayList;
+import java.util.Collections;
+import java.util.List;
 import java.util.Random;
 
-/** All promises: sheets made by chance, and every call held against the oracle's answer. */
+/** All promises: sheets made by chance, and calls held against the oracle's answers, 512 of an object at most. */
 public final class OracleTest {
+    private static final int MOST_CALLS = 512;
+
     private static final int[] faults = new int[8];
+    private static final int[] defects = new int[7];
     private static int great;
     private static int explored;
-    private static final int[] defects = new int[7];
 
-    private OracleTest() {
+    private final RuleSheets x = new RuleSheets();
+    private final Oracle o = new Oracle();
+    private final SheetMaker maker;
+    private final Random chance;
+    private int left = MOST_CALLS;
+    private String text = "";
+
+    private OracleTest(long seed, long way) {
+        maker = new SheetMaker(seed);
+        chance = new Random(way);
     }
 
     private static String answer(Check.Call call) {
@@ -18,7 +32,12 @@ public final class OracleTest {
         }
     }
 
-    private static String same(String text, String what, Check.Call got, Check.Call want) {
+    /** Asks both, as long as the object has calls left; tells what is due. */
+    private String same(String what, Check.Call got, Check.Call want) {
+        if (left == 0) {
+            return "";
+        }
+        left--;
         String due = answer(want);
         String its = answer(got);
         Check.asked++;
@@ -32,116 +51,150 @@ public final class OracleTest {
         return answer.matches("-?[0-9]+") ? Integer.parseInt(answer) : 0;
     }
 
-    private static void compareTexts(String t, RuleSheets x, Oracle o, int what, int count) {
-        for (int i = -1; i <= count; i++) {
-            for (int k = -1; k < 60; k++) {
-                int ii = i;
-                int kk = k;
-                String due = same(t, "sign(" + what + "," + i + "," + k + ")", () -> x.sign(what, ii, kk), () -> o.sign(what, ii, kk));
-                if (k >= 0 && (due.equals("0") || !due.matches("[0-9]+"))) {
+    /** The numbers from -1 up to count, in any order, so that each has its turn. */
+    private List<Integer> shuffled(int count) {
+        List<Integer> all = new ArrayList<>();
+        for (int n = -1; n <= count; n++) {
+            all.add(n);
+        }
+        Collections.shuffle(all, chance);
+        return all;
+    }
+
+    private boolean enough(int calls) {
+        return left <= calls;
+    }
+
+    /** Some texts, each up to its end, or some sign of it. */
+    private void compareTexts(int what, int count, int some) {
+        int asked = 0;
+        for (int i : shuffled(count)) {
+            if (asked++ == some) {
+                return;
+            }
+            int first = chance.nextInt(3) == 0 ? chance.nextInt(50) - 2 : 0;
+            for (int k = first; k < 60; k++) {
+                int place = k;
+                String due = same("sign(" + what + "," + i + "," + k + ")", () -> x.sign(what, i, place), () -> o.sign(what, i, place));
+                if (first != 0 || number(due) <= 0) {
                     break;
                 }
             }
         }
     }
 
-    private static void compareState(String t, RuleSheets x, Oracle o, int terms) {
-        compareTexts(t, x, o, 0, terms);
-        same(t, "terminal()", () -> x.terminal() ? 1 : 0, o::terminal);
-        for (int r = -1; r <= 4; r++) {
-            int role = r;
-            int moves = number(same(t, "moves(" + r + ")", () -> x.moves(role), () -> o.moves(role)));
-            same(t, "goal(" + r + ")", () -> x.goal(role), () -> o.goal(role));
-            compareTexts(t, x, o, 1 + r, Math.min(moves, 6));
+    private void compareState(int terms) {
+        compareTexts(0, terms, 3);
+        same("terminal()", () -> x.terminal() ? 1 : 0, o::terminal);
+        for (int r : shuffled(4).subList(0, 4)) {
+            int moves = number(same("moves(" + r + ")", () -> x.moves(r), () -> o.moves(r)));
+            same("goal(" + r + ")", () -> x.goal(r), () -> o.goal(r));
+            compareTexts(1 + r, moves, 1);
         }
     }
 
-    private static void compareAll(String t, RuleSheets x, Oracle o) {
-        String due = same(t, "explore()", x::explore, o::explore);
+    private int compareExplore() {
+        String due = same("explore()", x::explore, o::explore);
         if (due.equals("UnsupportedOperationException")) {
             great++;
         } else if (due.matches("[0-9]+")) {
             explored++;
             defects[o.defect(0)]++;
         }
-        int count = number(due);
-        for (int what = -1; what <= 2; what++) {
-            int w = what;
-            same(t, "defect(" + what + ")", () -> x.defect(w), () -> o.defect(w));
+        return number(due);
+    }
+
+    private void compareStates(int count, int keep) {
+        for (int what : shuffled(2)) {
+            same("defect(" + what + ")", () -> x.defect(what), () -> o.defect(what));
         }
-        for (int n = -1; n <= count; n++) {
-            int s = n;
-            for (int what = -1; what <= 3; what++) {
-                int w = what;
-                same(t, "state(" + n + "," + what + ")", () -> x.state(s, w), () -> o.state(s, w));
+        for (int n : shuffled(count)) {
+            if (enough(keep)) {
+                return;
             }
-            int joint = number(answer(() -> o.state(s, 2)));
-            for (int j = -1; j <= joint; j++) {
-                int m = j;
-                same(t, "next(" + n + "," + j + ")", () -> x.next(s, m), () -> o.next(s, m));
+            same("value(" + n + ")", () -> x.value(n), () -> o.value(n));
+            same("best(" + n + ")", () -> x.best(n), () -> o.best(n));
+            for (int what : shuffled(3).subList(0, 3)) {
+                same("state(" + n + "," + what + ")", () -> x.state(n, what), () -> o.state(n, what));
             }
-            same(t, "value(" + n + ")", () -> x.value(s), () -> o.value(s));
-            same(t, "best(" + n + ")", () -> x.best(s), () -> o.best(s));
+            int joint = number(answer(() -> o.state(n, 2)));
+            for (int j : shuffled(joint).subList(0, 2)) {
+                same("next(" + n + "," + j + ")", () -> x.next(n, j), () -> o.next(n, j));
+            }
         }
     }
 
-    private static void write(RuleSheets x, Oracle o, String text) {
+    private void write(String more) {
+        text = more;
         x.end(0);
         o.end(0);
+        left--;
         for (int k = 0; k < text.length(); k += 4) {
             x.put(Check.four(text, k));
             o.put(Check.four(text, k));
+            left--;
         }
     }
 
-    private static void play(String t, RuleSheets x, Oracle o, Random chance, int steps) {
-        compareState(t, x, o, number(same(t, "start()", x::start, o::start)));
+    private void play(int steps) {
+        compareState(number(same("start()", x::start, o::start)));
         for (int n = 0; n < steps; n++) {
             int j = chance.nextInt(8) == 0 ? chance.nextInt(50) - 2 : chance.nextInt(4);
-            String due = same(t, "play(" + j + ")", () -> x.play(j), () -> o.play(j));
-            compareState(t, x, o, number(due));
+            String due = same("play(" + j + ")", () -> x.play(j), () -> o.play(j));
+            if (chance.nextBoolean()) {
+                compareState(number(due));
+            }
         }
+    }
+
+    private String someText() {
+        String some = switch (chance.nextInt(4)) {
+            case 0 -> maker.graphGame();
+            case 1 -> maker.pathGame();
+            default -> maker.anySheet();
+        };
+        if (chance.nextInt(4) == 0) {
+            some = chance.nextInt(4) == 0 ? maker.soup() : maker.spoilt(some);
+        }
+        return some.substring(0, Math.min(some.length(), 2000));
+    }
+
+    private void compareSheet() {
+        faults[number(same("read()", x::read, o::read))]++;
+        same("fault()", x::fault, o::fault);
+        for (int what : shuffled(2)) {
+            same("sheet(" + what + ")", () -> x.sheet(what), () -> o.sheet(what));
+        }
+        compareTexts(5, number(answer(() -> o.sheet(1))), 2);
     }
 
     /** One object goes through several sheets, so that what stays of one would be seen in the next. */
-    private static void go(SheetMaker maker, Random chance) {
-        RuleSheets x = new RuleSheets();
-        Oracle o = new Oracle();
+    private void go() {
         for (int n = 0; n < 4; n++) {
-            String text = switch (chance.nextInt(4)) {
-                case 0 -> maker.graphGame();
-                case 1 -> maker.pathGame();
-                default -> maker.anySheet();
-            };
-            if (chance.nextInt(4) == 0) {
-                text = chance.nextInt(4) == 0 ? maker.soup() : maker.spoilt(text);
+            String more = someText();
+            if (more.length() / 4 + 20 > left) {
+                return;
             }
-            if (text.length() > 2000) {
-                text = text.substring(0, 2000);
+            write(more);
+            int keep = chance.nextInt(3) == 0 ? 0 : left / 2;
+            compareSheet();
+            int count = chance.nextBoolean() ? compareExplore() : 0;
+            if (chance.nextInt(3) != 0) {
+                play(chance.nextInt(5));
+                count = compareExplore();
             }
-            String t = text;
-            write(x, o, text);
-            faults[number(same(t, "read()", x::read, o::read))]++;
-            same(t, "fault()", x::fault, o::fault);
-            for (int what = -1; what <= 2; what++) {
-                int w = what;
-                same(t, "sheet(" + what + ")", () -> x.sheet(w), () -> o.sheet(w));
+            compareStates(count, keep);
+            if (chance.nextBoolean()) {
+                compareState(2);
             }
-            compareTexts(t, x, o, 5, number(answer(() -> o.sheet(1))));
-            if (chance.nextInt(3) == 0) {
-                compareAll(t, x, o);
-            }
-            play(t, x, o, chance, 4);
-            compareAll(t, x, o);
-            compareState(t, x, o, 2);
         }
     }
 
     public static void main(String[] args) {
-        int rounds = args.length > 0 ? Integer.parseInt(args[0]) : 100;
+        int rounds = args.length > 0 ? Integer.parseInt(args[0]) : 600;
         long seed = args.length > 1 ? Long.parseLong(args[1]) : 1;
         for (int n = 0; n < rounds; n++) {
-            go(new SheetMaker(seed + n), new Random(seed * 31 + n));
+            new OracleTest(seed + n, seed * 31 + n).go();
         }
         StringBuilder told = new StringBuilder("sheets by fault:");
         for (int n : faults) {

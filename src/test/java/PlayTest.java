@@ -96,23 +96,32 @@ public final class PlayTest {
         Check.due("sign behind a role's end", 0, () -> x.sign(5, 0, 5));
     }
 
-    /** More terms than there is room for at first, many of them of one length. */
+    /** More terms than there is room for at first, many of them of one length; an object is asked for a part of them. */
     private static void manyTerms() {
         StringBuilder out = new StringBuilder("(role a)");
-        StringBuilder want = new StringBuilder();
         for (int k = 0; k < 28; k++) {
             out.append("(d ").append(k + 10).append(')');
         }
+        String sheet = out + "(<= (legal a (f (g ?x) (h (g ?y) ?x))) (d ?x) (d ?y))(<= (next ?m) (does a ?m))";
         for (int k = 0; k < 28; k++) {
-            for (int n = 0; n < 28; n++) {
-                want.append(k + n == 0 ? "" : " ").append("(f (g ").append(k + 10).append(") (h (g ").append(n + 10).append(") ").append(k + 10).append("))");
+            RuleSheets x = Check.started(sheet);
+            Check.due("how many", 784, () -> x.moves(0));
+            for (int n = k % 3; n < 28; n += 3) {
+                Check.same("move " + (28 * k + n), move(k, n), Check.text(x, 1, 28 * k + n));
             }
         }
-        RuleSheets x = Check.started(out + "(<= (legal a (f (g ?x) (h (g ?y) ?x))) (d ?x) (d ?y))(<= (next ?m) (does a ?m))");
-        moves("many terms", x, 0, 784, want.toString());
+        RuleSheets x = Check.started(sheet);
+        Check.refused("one more", IndexOutOfBoundsException.class, () -> x.sign(1, 784, 0));
         Check.due("a move among them", 1, () -> x.play(777));
-        Check.same("that move", "(f (g 37) (h (g 31) 37))", Check.text(x, 0, 0));
-        moves("many terms again", x, 0, 784, want.toString());
+        Check.same("that move", move(27, 21), Check.text(x, 0, 0));
+        Check.same("the last one again", move(27, 27), Check.text(x, 1, 783));
+        Check.due("the last one", 1, () -> x.play(783));
+        Check.same("that move", move(27, 27), Check.text(x, 0, 0));
+        Check.same("the first one again", move(0, 0), Check.text(x, 1, 0));
+    }
+
+    private static String move(int k, int n) {
+        return "(f (g " + (k + 10) + ") (h (g " + (n + 10) + ") " + (k + 10) + "))";
     }
 
     /** "The state becomes the initial one: how many terms it has", from whatever state it was. */
@@ -222,19 +231,23 @@ public final class PlayTest {
         Check.same("a move's text", "(m (h a bc))", Check.text(y, 1, 0));
     }
 
-    /** A long game, so that what is dropped and kept of terms is worked hard. */
-    private static void longGame() {
-        RuleSheets x = Check.started("(role a)(init (c z 0))(legal a (add one))(legal a drop)(s 0 1)(s 1 2)(s 2 3)(s 3 0)"
+    /** Long games, so that what is dropped and kept of terms is worked hard. */
+    private static void longGames() {
+        String sheet = "(role a)(init (c z 0))(legal a (add one))(legal a drop)(s 0 1)(s 1 2)(s 2 3)(s 3 0)"
             + "(<= (next (c (n ?x) ?d)) (true (c ?x ?e)) (does a (add one)) (s ?e ?d))(<= (next (c ?x 0)) (true (c (n ?x) ?e)) (does a drop))"
-            + "(<= (next (c z 0)) (does a drop) (true (c z ?e)))(<= (junk (k ?x ?y) ?z) (s ?x ?z) (s ?z ?y))");
-        int depth = 0;
-        for (int n = 0; n < 400; n++) {
-            boolean add = depth < 8 && n % 3 != 2;
-            int was = depth;
-            depth = add ? depth + 1 : Math.max(0, depth - 1);
-            Check.due("a step of a long game", 1, () -> x.play(add ? 0 : 1));
+            + "(<= (next (c z 0)) (does a drop) (true (c z ?e)))(<= (junk (k ?x ?y) ?z) (s ?x ?z) (s ?z ?y))";
+        for (int steps = 0; steps <= 320; steps += steps < 12 ? 1 : 7) {
+            RuleSheets x = Check.started(sheet);
+            int depth = 0;
+            int digit = 0;
+            for (int n = 0; n < steps; n++) {
+                boolean add = depth < 8 && n % 3 != 2;
+                depth = add ? depth + 1 : Math.max(0, depth - 1);
+                digit = add ? (digit + 1) % 4 : 0;
+                Check.due("step " + n + " of a long game", 1, () -> x.play(add ? 0 : 1));
+            }
             String number = Check.repeat("(n ", depth) + "z" + Check.repeat(")", depth);
-            Check.holds("step " + n + " of a long game from " + was, Check.text(x, 0, 0).startsWith("(c " + number + " "));
+            Check.same("the end of a game of " + steps, "(c " + number + " " + digit + ")", Check.text(x, 0, 0));
         }
     }
 
@@ -249,7 +262,7 @@ public final class PlayTest {
         everySign();
         manyTerms();
         longTerms();
-        longGame();
+        longGames();
         Check.finish();
     }
 }

@@ -162,6 +162,52 @@ public final class ReadTest {
         Check.due("read() of sixteen letters", 0, x::read);
     }
 
+    /** Each read is like the first one, however often the text has been read. */
+    private static void again() {
+        String many = "(g" + Check.repeat("(f a b c d)", 4) + ")";
+        RuleSheets x = Check.with(Check.repeat("(p" + Check.repeat(many, 4) + ")", 9));
+        StringBuilder heads = new StringBuilder();
+        for (int k = 0; k < 60; k++) {
+            heads.append("(<= p").append(k).append(" b c d e f g)");
+        }
+        RuleSheets y = Check.with(heads.toString());
+        for (int n = 0; n < 12; n++) {
+            Check.due("read() of many terms, time " + n, 0, x::read);
+            Check.due("its rules", 9, () -> x.sheet(0));
+            Check.due("read() of many relations, time " + n, 0, y::read);
+            Check.due("its rules", 60, () -> y.sheet(0));
+        }
+    }
+
+    /** Reads sheets in turn, and holds the number of terms that they start with against what is due; -1 if too great. */
+    private static void inTurn(int rounds, String[] sheets, int[] due) {
+        RuleSheets x = new RuleSheets();
+        for (int n = 0; n < rounds; n++) {
+            int k = n % sheets.length;
+            writeAnew(x, sheets[k]);
+            Check.due("read() of " + sheets[k], 0, x::read);
+            if (due[k] < 0) {
+                Check.refused("start() of " + sheets[k], UnsupportedOperationException.class, x::start);
+            } else {
+                Check.due("start() of " + sheets[k], due[k], x::start);
+            }
+        }
+    }
+
+    /** Nothing of a sheet that was read before is seen: rules that need themselves, atoms, what was too great. */
+    private static void others() {
+        inTurn(6, new String[] {"p (<= (init a) q (init_ b)) (<= q q) (<= (init_ b) (init_ b))", "p", "(<= (init b) r) (<= r s) (<= s t) t (<= (init c) (not q))"},
+            new int[] {0, 0, 2});
+        inTurn(8, new String[] {"(init a)(init b)", "p (init b)", "(role a)(role b)", "p (init c)(<= (init role) (role ?x))"}, new int[] {2, 1, 0, 1});
+        inTurn(5, new String[] {HoldsTest.atoms(23), "(init a)"}, new int[] {-1, 1});
+        String[] circles = {"(<= a a)(<= b a)(<= (init s) b)(<= a c)", "(<= b a)(<= (init s) b)(<= c c)a", "(<= (init s) a)(<= a b)(<= b c)c", "a(<= b b)(<= b a)(<= (init s) b)"};
+        for (int first = 0; first < 4; first++) {
+            for (int third = 0; third < 4; third++) {
+                inTurn(3, new String[] {circles[first], "p", circles[third]}, new int[] {first == 0 ? 0 : 1, 0, third == 0 ? 0 : 1});
+            }
+        }
+    }
+
     /** "How many rules the sheet has (what = 0), how many roles (1; 0 to 4)" */
     private static void counts() {
         RuleSheets x = Check.reading("(role a) (role b) (role a) (<= (role c)) p (role (d e)) (role f)");
@@ -193,6 +239,8 @@ public final class ReadTest {
         textStays();
         latestFault();
         left();
+        again();
+        others();
         counts();
         wrongWhat();
         Check.finish();

@@ -20,15 +20,9 @@ public final class RoomTest {
         System.out.println(what + ": " + its + " bytes");
     }
 
-    private static void read(RuleSheets x, String text) {
-        x.end(0);
-        Check.write(x, text);
-        Check.due("read() of a sheet", 0, x::read);
-    }
-
-    private static void playAll(RuleSheets x) {
+    private static void playAll(RuleSheets x, int steps) {
         x.start();
-        for (int n = 0; n < 100; n++) {
+        for (int n = 0; n < steps; n++) {
             x.moves(0);
             x.terminal();
             x.goal(0);
@@ -37,34 +31,51 @@ public final class RoomTest {
         }
     }
 
-    public static void main(String[] args) {
+    private static void smallGame() {
         RuleSheets[] x = new RuleSheets[1];
         String walk = "(role a)(init (c (n 0)))(legal a (go up))(legal a (go down))(s 0 1)(s 1 2)(s 2 3)(s 3 0)"
             + "(<= (next (c (n ?y))) (true (c (n ?x))) (s ?x ?y) (does a (go up)))"
             + "(<= (next (c (n ?y))) (true (c (n ?x))) (s ?y ?x) (does a (go down)))";
         upTo("a new object", 260000, () -> x[0] = new RuleSheets());
         upTo("put", 2000, () -> Check.write(x[0], walk));
-        read(x[0], walk);
+        Check.due("read()", 0, () -> x[0].read());
         upTo("read again", 2000, () -> x[0].read());
-        playAll(x[0]);
-        upTo("a long game", 2000, () -> playAll(x[0]));
-        upTo("the first explore", 250000, () -> explore(x[0]));
+        playAll(x[0], 10);
+        upTo("a long game", 2000, () -> playAll(x[0], 60));
+        upTo("the first explore", 250000, () -> Check.holds("explore() of a small game", x[0].explore() == 4));
         x[0].read();
-        upTo("one more explore", 2000, () -> explore(x[0]));
-        read(x[0], junk());
-        upTo("a long game with much that isn't kept", 2000, () -> playOn(x[0]));
-        upTo("explore with much that isn't kept", 2000, () -> Check.holds("explore() of it", x[0].explore() == 200));
-        upTo("a great sheet", 4000000, () -> great(x[0]));
-        upTo("a great sheet again", 20000, () -> great(x[0]));
-        Check.finish();
+        upTo("one more explore", 2000, () -> Check.holds("explore() of a small game", x[0].explore() == 4));
     }
 
-    private static void playOn(RuleSheets x) {
+    private static void junkGame() {
+        RuleSheets x = Check.reading(junk());
+        playOn(x, 10);
+        upTo("a long game with much that isn't kept", 2000, () -> playOn(x, 120));
+        upTo("the first explore with much that isn't kept", 250000, () -> Check.holds("explore() of it", x.explore() == 200));
+        x.read();
+        upTo("explore with much that isn't kept", 2000, () -> Check.holds("explore() of it", x.explore() == 200));
+    }
+
+    private static void playOn(RuleSheets x, int steps) {
         x.start();
-        for (int n = 0; n < 199; n++) {
-            Check.holds("ten moves", x.moves(0) == 10);
+        for (int n = 0; n < steps; n++) {
             x.play(n % 10);
         }
+        Check.holds("ten moves", x.moves(0) == 10);
+    }
+
+    private static void greatGame() {
+        RuleSheets x = Check.reading(great());
+        upTo("a great sheet", 4000000, () -> Check.holds("explore() of it", x.explore() == 242));
+        x.read();
+        upTo("a great sheet again", 20000, () -> Check.holds("explore() of it", x.explore() == 242));
+    }
+
+    public static void main(String[] args) {
+        smallGame();
+        junkGame();
+        greatGame();
+        Check.finish();
     }
 
     /** 200 states, in each of which some 60 terms come that come in no other one. */
@@ -78,12 +89,8 @@ public final class RoomTest {
             + "(<= (junk (j ?x ?y (i ?x ?k ?y)) (h ?k ?x ?y)) (true (c ?x ?y)) (d ?k))(<= (more (l ?m) (n ?m)) (does a ?m))";
     }
 
-    private static void explore(RuleSheets x) {
-        Check.holds("explore() of a small game", x.explore() == 4);
-    }
-
     /** Some 240 states with 48 terms each, most of which are unlike. */
-    private static void great(RuleSheets x) {
+    private static String great() {
         StringBuilder out = new StringBuilder("(role a)(legal a go)(init (c 0 0))");
         for (int k = 0; k < 23; k++) {
             out.append("(s ").append(k).append(' ').append(k + 1).append(')').append(k < 9 ? "(t " + k + " " + (k + 1) + ")" : "");
@@ -91,7 +98,6 @@ public final class RoomTest {
         out.append("(<= (next (c ?x ?z)) (true (c ?x ?y)) (s ?y ?z))(<= (next (c ?z 0)) (true (c ?x 23)) (t ?x ?z))");
         out.append("(<= (next (g (h ?x ?y) (k ?z ?x ?y))) (true (c ?x ?y)) (s ?z ?w))");
         out.append("(<= (next (g (h ?x ?y) (l ?z ?x ?y))) (true (c ?x ?y)) (s ?z ?w))");
-        read(x, out.toString());
-        Check.due("explore() of a great sheet", 242, x::explore);
+        return out.toString();
     }
 }

@@ -34,7 +34,10 @@ public final class SheetsTest {
         Check.noSheet("|" + Check.repeat(")", 2000));
         Check.noSheet("|" + Check.repeat("a", 2000));
         Check.noSheet("|?" + Check.repeat("a", 1999));
-        Check.leaves("the 2001st sign", UnsupportedOperationException.class, () -> Check.with("(p" + blanks(1996) + "a)"), x -> x.put('a'));
+        RuleSheets x = Check.with("(p" + blanks(1996) + "a)");
+        Check.refused("the 2001st sign", UnsupportedOperationException.class, () -> x.put('a'));
+        Check.due("how many there are", 2000, () -> x.put(0));
+        Check.due("read() of them", 0, x::read);
     }
 
     /** "signs, 32 .. 126 and line ends (10)": a comment may have them all. */
@@ -323,6 +326,29 @@ public final class SheetsTest {
         Check.well(open(9) + "(f a b c d)" + close(9) + open(10) + "a" + close(10));
     }
 
+    /** All that a text of 2000 signs has room for: names, unlike names, long names, conditions and parentheses. */
+    private static void full() {
+        String four = "(f a b c d)";
+        String many = "(g" + Check.repeat(four, 4) + ")";
+        String rule = "(p" + Check.repeat(many, 4) + ")";
+        Check.rules(Check.repeat(rule, 10) + "(q" + four + four + four + "a)" + "(r" + four + four + four + four + ")", 12);
+        Check.fault(Check.repeat(rule, 10) + "(q" + four + four + four + "?x)", 5, 10);
+        Check.rules(Check.repeat("(<= a b c d e f g h i)", 60), 60);
+        Check.rules(Check.repeat("(<= a b(not c)(not d)(distinct e f))", 55), 55);
+        Check.fault(Check.repeat("(<= a b c d e f g h i)", 59) + "(<= a b c d e f g h (not a))", 6, 59);
+        StringBuilder unlike = new StringBuilder();
+        for (int k = 0; k < 31 * 16; k++) {
+            unlike.append(k % 16 == 0 ? "(p" : "").append(k % 4 == 0 ? "(g " : " ").append(LETTERS.charAt(k / 37)).append(LETTERS.charAt(k % 37));
+            unlike.append(k % 4 == 3 ? ")" : "").append(k % 16 == 15 ? ")" : "");
+        }
+        Check.rules(unlike.toString(), 31);
+        StringBuilder longest = new StringBuilder();
+        for (int k = 0; k < 112; k++) {
+            longest.append(k % 4 == 0 ? "(p " : " ").append(String.format("%016d", k)).append(k % 4 == 3 ? ")" : "");
+        }
+        Check.rules(longest.toString(), 28);
+    }
+
     public static void main(String[] args) {
         longestText();
         allSigns();
@@ -341,6 +367,7 @@ public final class SheetsTest {
         sixty();
         eightVariables();
         depth();
+        full();
         Check.finish();
     }
 }

@@ -158,6 +158,21 @@ public final class StatesTest {
         }
     }
 
+    /** Names that begin alike are unlike, whichever comes first. */
+    private static void beginnings() {
+        String letters = "abcdefghijklmnopqrstuvwxyz0123456789_";
+        for (int first = 0; first < 37; first++) {
+            for (int half = 0; half < 2; half++) {
+                StringBuilder text = new StringBuilder();
+                for (int second = 0; second < 18; second++) {
+                    String name = "" + letters.charAt(first) + letters.charAt(second + 18 * half);
+                    text.append(half == 0 ? "(init " + name + "z)(init " + name + ")" : "(init " + name + ")(init " + name + "z)").append("(init ").append(name).append("zzz)");
+                }
+                Check.due("names that begin with " + letters.charAt(first), 54, Check.reading(text.toString())::start);
+            }
+        }
+    }
+
     /** "A state's terms, and moves, are in that order." */
     private static void orderOfAll() {
         String all = "(init b)(init ab)(init a)(init a_)(init a0)(init aa)(init 9)(init 10)(init _)"
@@ -184,10 +199,9 @@ public final class StatesTest {
         String sheet = "(role a)(role b)(role c)(role d)(role e)"
             + "(legal a 1)(legal a 2)(legal b 1)(legal b 2)(legal b 3)(legal c 1)(legal d 2)(legal d 1)(legal e 5)"
             + "(<= (next (did ?r ?m)) (does ?r ?m))(<= terminal (true (did a 1)))";
-        RuleSheets x = Check.started(sheet);
         for (int j = 0; j < 12; j++) {
             int move = j;
-            x.start();
+            RuleSheets x = Check.started(sheet);
             Check.due("play(" + j + ")", 4, () -> x.play(move));
             PlayTest.terms("joint move " + j, x, 4, "(did a " + (1 + j / 6) + ") (did b " + (1 + j / 2 % 3) + ") (did c 1) (did d " + (1 + j % 2) + ")");
         }
@@ -214,9 +228,8 @@ public final class StatesTest {
             out.append("(d ").append((char) ('a' + k)).append(")");
         }
         out.append("(<= (legal ?r (m ?x ?y)) (role ?r) (d ?x) (d ?y))(<= (next (did ?r ?m)) (does ?r ?m))");
-        RuleSheets x = Check.started(out.toString());
         for (int j : new int[] {Integer.MAX_VALUE, Integer.MAX_VALUE - 1, 2000000000, 225 * 225 * 225, 1, 0}) {
-            x.start();
+            RuleSheets x = Check.started(out.toString());
             Check.due("play(" + j + ") of more than an int tells", 4, () -> x.play(j));
             StringBuilder want = new StringBuilder();
             long part = 225L * 225 * 225;
@@ -228,8 +241,8 @@ public final class StatesTest {
             }
             PlayTest.terms("joint move " + j, x, 4, want.toString());
         }
-        Check.refused("play(-1)", IndexOutOfBoundsException.class, () -> x.play(-1));
-        Check.refused("play(least)", IndexOutOfBoundsException.class, () -> x.play(Integer.MIN_VALUE));
+        Check.refused("play(-1)", IndexOutOfBoundsException.class, () -> Check.started(out.toString()).play(-1));
+        Check.refused("play(least)", IndexOutOfBoundsException.class, () -> Check.started(out.toString()).play(Integer.MIN_VALUE));
     }
 
     /** So many joint moves that an int can just tell them: 215 moves each are 2136750625. */
@@ -257,6 +270,7 @@ public final class StatesTest {
         next();
         sixtyTerms();
         order();
+        beginnings();
         orderOfAll();
         joint();
         noJoint();
