@@ -70,6 +70,98 @@ public final class ExploreTest {
         }
     }
 
+    private static RuleSheets explored(String text) {
+        RuleSheets x = Check.reading(text);
+        x.explore();
+        return x;
+    }
+
+    /** "Of state n: 0 how many terms it has": none, and the most that there may be. */
+    private static void termsOfStates() {
+        Check.due("no terms", 0, () -> explored("(role a)").state(0, 0));
+        Check.due("one term", 1, () -> explored("(init a)").state(0, 0));
+        Check.due("sixty terms", 60, () -> explored(Check.facts("d", 6) + Check.facts("e", 10) + "(<= (init (c ?x ?y)) (d ?x) (e ?y))").state(0, 0));
+        String sixty = Check.facts("d", 6) + Check.facts("e", 10) + "(role a)(legal a m)(init s)(<= (next (c ?x ?y)) (d ?x) (e ?y))";
+        Check.due("one term before", 1, () -> explored(sixty).state(0, 0));
+        Check.due("sixty terms behind", 60, () -> explored(sixty).state(1, 0));
+    }
+
+    /** "1 whether it is terminal (1 or 0)" */
+    private static void endsOfStates() {
+        Check.due("a terminal one", 1, () -> explored("terminal").state(0, 1));
+        Check.due("one that isn't", 0, () -> explored("(init a)").state(0, 1));
+        String chain = "(role a)(legal a m)(init s)(<= (next t) (true s))(<= (next u) (true t))(<= terminal (true u))";
+        for (int n = 0; n < 3; n++) {
+            int s = n;
+            Check.due("state " + n + " of three", n == 2 ? 1 : 0, () -> explored(chain).state(s, 1));
+        }
+    }
+
+    /** "2 how many joint moves (0 if it is terminal, or a role has no move)" */
+    private static void movesOfStates() {
+        String two = "(role a)(role b)(init s)(legal a m)(legal a n)(legal a o)";
+        Check.due("three and none", 0, () -> explored(two).state(0, 2));
+        Check.due("none and three", 0, () -> explored(two.replace("legal a", "legal b")).state(0, 2));
+        Check.due("three and one", 3, () -> explored(two + "(legal b m)").state(0, 2));
+        Check.due("three and two", 6, () -> explored(two + "(legal b m)(legal b n)").state(0, 2));
+        Check.due("three and two of a terminal one", 0, () -> explored(two + "(legal b m)(legal b n)terminal").state(0, 2));
+        Check.due("none without roles", 0, () -> explored("(init s)(legal a m)").state(0, 2));
+        Check.due("one role's", 1, () -> explored("(role a)(legal a m)").state(0, 2));
+        Check.due("four roles'", 16, () -> explored(Check.facts("role", 4) + "(<= (legal ?r m) (role ?r))(<= (legal ?r n) (role ?r))").state(0, 2));
+    }
+
+    /** "The state that comes by joint move j of state n. .. IndexOutOfBoundsException if there is no such state or joint move, or it is terminal." */
+    private static void nextStates() {
+        String text = "(role a)(legal a m)(legal a n)(init s)(<= (next t) (true s) (does a m))(<= (next u) (true s) (does a n))(<= (next s) (true t))(<= terminal (true u))";
+        int[][] next = {{1, 2}, {0, 0}};
+        for (int n = 0; n < 2; n++) {
+            for (int j = 0; j < 2; j++) {
+                int s = n;
+                int m = j;
+                Check.due("next(" + n + "," + j + ")", next[n][j], () -> explored(text).next(s, m));
+            }
+        }
+        int[][] none = {{0, 2}, {0, -1}, {1, 2}, {1, -1}, {2, 0}, {2, 1}, {2, -1}, {3, 0}, {-1, 0}, {3, 2}};
+        for (int[] no : none) {
+            Check.leaves("next(" + no[0] + "," + no[1] + ")", IndexOutOfBoundsException.class, () -> explored(text), x -> x.next(no[0], no[1]));
+        }
+        Check.leaves("next(0,0) where states aren't known", IllegalStateException.class, () -> Check.started(text), x -> x.next(0, 0));
+    }
+
+    /** "The value of state n. IllegalStateException if the states aren't known, or have a defect; IndexOutOfBoundsException if there is no such state." */
+    private static void valuesOfStates() {
+        String text = AllStatesTest.graph("01 02", "0", "1:40 2:60");
+        int[] worth = {60, 40, 60};
+        for (int n = 0; n < 3; n++) {
+            int s = n;
+            Check.due("value(" + n + ")", worth[n], () -> explored(text).value(s));
+        }
+        for (int n : new int[] {-1, 3}) {
+            Check.leaves("value(" + n + ")", IndexOutOfBoundsException.class, () -> explored(text), x -> x.value(n));
+        }
+        for (int n : new int[] {-1, 0, 3}) {
+            Check.leaves("value(" + n + ") where states aren't known", IllegalStateException.class, () -> Check.reading(text), x -> x.value(n));
+            Check.leaves("value(" + n + ") where states have a defect", IllegalStateException.class, () -> explored(text + "(goal x 3)"), x -> x.value(n));
+        }
+    }
+
+    /** "The best joint move of state n; NONE if it is terminal." */
+    private static void bestMoves() {
+        String text = AllStatesTest.graph("01 02", "0", "1:40 2:60");
+        int[] best = {1, -1, -1};
+        for (int n = 0; n < 3; n++) {
+            int s = n;
+            Check.due("best(" + n + ")", best[n], () -> explored(text).best(s));
+        }
+        for (int n : new int[] {-1, 3}) {
+            Check.leaves("best(" + n + ")", IndexOutOfBoundsException.class, () -> explored(text), x -> x.best(n));
+        }
+        for (int n : new int[] {-1, 0, 3}) {
+            Check.leaves("best(" + n + ") where states aren't known", IllegalStateException.class, () -> Check.reading(text), x -> x.best(n));
+            Check.leaves("best(" + n + ") where states have a defect", IllegalStateException.class, () -> explored(text + "(goal x 3)"), x -> x.best(n));
+        }
+    }
+
     private static void heap() {
         RuleSheets x = Check.reading(PlayTest.HEAP);
         Check.refused("defect(0) ahead of explore()", IllegalStateException.class, () -> x.defect(0));
@@ -176,6 +268,12 @@ public final class ExploreTest {
         stateStays();
         notKnown();
         defects();
+        termsOfStates();
+        endsOfStates();
+        movesOfStates();
+        nextStates();
+        valuesOfStates();
+        bestMoves();
         heap();
         numbers();
         counts();

@@ -57,6 +57,7 @@ public final class PlayTest {
         terms("the initial state again", x, 2, "(heap 4) (turn first)");
     }
 
+    /** "IllegalStateException if there is no state": neither explore() nor a start() that is too great makes one. */
     private static void noState() {
         RuleSheets x = Check.reading(HEAP);
         Check.refused("moves(9) without a state", IllegalStateException.class, () -> x.moves(9));
@@ -70,8 +71,16 @@ public final class PlayTest {
             Check.refused("sign of " + w + " without a state", IllegalStateException.class, () -> x.sign(w, -1, -1));
         }
         Check.due("sign(5,1,0) without a state", 's', () -> x.sign(5, 1, 0));
+        x.explore();
+        Check.refused("moves(0) behind explore()", IllegalStateException.class, () -> x.moves(0));
+        RuleSheets y = Check.reading("(role a)(init s)(legal a m)" + HoldsTest.atoms(20));
+        Check.refused("start() too great", UnsupportedOperationException.class, y::start);
+        Check.refused("terminal() behind it", IllegalStateException.class, () -> y.terminal() ? 1 : 0);
+        Check.refused("play(0) behind it", IllegalStateException.class, () -> y.play(0));
+        Check.refused("sign(0,0,0) behind it", IllegalStateException.class, () -> y.sign(0, 0, 0));
     }
 
+    /** "IndexOutOfBoundsException if there is no such role", ".. no such joint move", ".. term or move, or k is below 0" */
     private static void wrongNumbers() {
         RuleSheets x = Check.started(HEAP);
         for (int r : new int[] {-1, 2, 3, 4, Integer.MAX_VALUE, Integer.MIN_VALUE}) {
@@ -156,6 +165,23 @@ public final class PlayTest {
             }
         }
         Check.refused("play(0) where a role has no move", IndexOutOfBoundsException.class, () -> x.play(0));
+    }
+
+    /** "Whether the state is terminal", and only the state that there is now. */
+    private static void terminals() {
+        RuleSheets x = Check.started("(role a)(legal a m)(init s)(<= (next t) (true s))(<= (next s) (true t))(<= terminal (true t))");
+        for (int n = 0; n < 6; n++) {
+            Check.due("terminal() behind " + n + " steps", n % 2, () -> x.terminal() ? 1 : 0);
+            Check.due("terminal() once more", n % 2, () -> x.terminal() ? 1 : 0);
+            x.play(0);
+        }
+        x.play(0);
+        Check.due("terminal() at the end", 1, () -> x.terminal() ? 1 : 0);
+        x.start();
+        Check.due("terminal() behind start()", 0, () -> x.terminal() ? 1 : 0);
+        String great = "(init s)" + HoldsTest.atoms(21);
+        Check.leaves("terminal() of what is too great", UnsupportedOperationException.class, () -> Check.started(great), y -> y.terminal() ? 1 : 0);
+        Check.due("terminal() of what just isn't", 0, () -> Check.started("(init s)" + HoldsTest.atoms(20)).terminal() ? 1 : 0);
     }
 
     /** "The goal of role r in the state; NONE if there is none, -2 if there are several." */
@@ -257,6 +283,7 @@ public final class PlayTest {
         wrongNumbers();
         starts();
         countsOfMoves();
+        terminals();
         goals();
         playsOn();
         everySign();

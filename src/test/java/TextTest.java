@@ -110,6 +110,7 @@ public final class TextTest {
         Check.due("put of two behind an end", 2000, () -> x.put('b' << 8 | 'c' << 24));
     }
 
+    /** A text that is full, up to its last sign, is read like any other. */
     private static void full() {
         RuleSheets x = new RuleSheets();
         for (int k = 0; k < 499; k++) {
@@ -183,6 +184,7 @@ public final class TextTest {
         Check.due("call 512", 0, () -> x.best(0));
     }
 
+    /** "The text has its first n signs": more can be put behind them, and the sheet stays. */
     private static void end() {
         RuleSheets x = Check.with("a b");
         Check.refused("end(-1)", IllegalArgumentException.class, () -> ended(x, -1));
