@@ -279,7 +279,7 @@ public final class RuleSheets {
         if (explored == UNKNOWN) {
             int mark = terms.top;
             search.open(spare);
-            for (int n = 0; n < search.count && !search.great; n++) {
+            for (int n = 0; n < MAX_STATES && n < search.count && !search.great; n++) {
                 int known = search.count;
                 int low = terms.top;
                 search.look(n, spare);
@@ -1413,7 +1413,7 @@ public final class RuleSheets {
                     run(sheet.order[k]);
                 }
                 if (sheet.endsGroup[k]) {
-                    for (int a = fresh; again && a < atoms.count && !great; a++) {
+                    for (int a = fresh; again && a < MAX_ATOMS && a < atoms.count && !great; a++) {
                         for (int n = group; n <= k; n++) {
                             runWith(sheet.order[n], a);
                         }
